@@ -68,12 +68,11 @@ public final class ClogVotes {
 
     private static final Word[] WORDS = Word.values();
 
-    private final Tape tape = new Tape();
+    private final Reader reader = new Reader();
+    private final Tape tape = reader.tape;
     private final Valley land = new Valley();
     private final State state = new State();
     private final Sentence saying = new Sentence();
-    private final Draft draft = new Draft(tape);
-    private final Book pages = new Book(tape);
     private final Last last = new Last();
     private final Purchase purchase = new Purchase();
     private final State before = new State();
@@ -117,14 +116,14 @@ public final class ClogVotes {
     }
 
     public int valley() {
-        int lines = draft.readValley();
+        int lines = reader.readValley();
         tape.size = 0;
         last.faultKind = tape.faultKind;
         if (lines < 0) {
             return -1 - tape.faultPlace;
         }
-        land.copyFrom(draft.land);
-        state.copyFrom(draft.state);
+        land.copyFrom(reader.land);
+        state.copyFrom(reader.state);
         saying.clear();
         acts = 0;
         return lines;
@@ -191,7 +190,7 @@ public final class ClogVotes {
         if (!isQuestion(q) || street < 0 || street >= land.streets) {
             return NONE;
         }
-        return land.granted[q * STREETS + street];
+        return land.grantTo(q, street);
     }
 
     public int way(int w, int what) {
@@ -545,7 +544,7 @@ public final class ClogVotes {
         if (lives != 0 && lives != 1) {
             return OTHER_LIVES;
         }
-        boolean whole = pages.read(land);
+        boolean whole = reader.readBook(land);
         tape.size = 0;
         last.faultKind = tape.faultKind;
         if (!whole) {
@@ -556,8 +555,8 @@ public final class ClogVotes {
         State judged = lives == 1 ? state : trial;
         int why = 0;
         int line = 0;
-        while (line < pages.lines && why == 0) {
-            why = pages.liveLine(land, judged, line);
+        while (line < reader.pages.lines && why == 0) {
+            why = reader.pages.liveLine(land, judged, line);
             if (why == 0) {
                 line++;
             }
@@ -588,13 +587,13 @@ public final class ClogVotes {
     }
 
     public int sentence() {
-        boolean whole = draft.readSentence(land);
+        boolean whole = reader.readSentence(land);
         tape.size = 0;
         last.faultKind = tape.faultKind;
         if (!whole) {
             return -1 - tape.faultPlace;
         }
-        saying.copyFrom(draft.saying);
+        saying.copyFrom(reader.saying);
         return saying.ones;
     }
 
@@ -1102,6 +1101,11 @@ public final class ClogVotes {
             return (children >> h & 1) != 0;
         }
 
+        int grantTo(int q, int street) {
+            int pair = q * STREETS + street;
+            return pair >= 0 && pair < granted.length ? granted[pair] : 0;
+        }
+
         int allHands() {
             return (1 << hands) - 1;
         }
@@ -1304,8 +1308,7 @@ public final class ClogVotes {
 
         void grantIrons(Valley land, int q) {
             for (int h = 0; h < land.hands; h++) {
-                int more = land.granted[q * STREETS + land.home[h]];
-                irons[h] = Math.min(MOST_IRONS, irons[h] + more);
+                irons[h] = Math.min(MOST_IRONS, irons[h] + land.grantTo(q, land.home[h]));
             }
         }
 
@@ -1453,411 +1456,15 @@ public final class ClogVotes {
         }
     }
 
-    /** Reads the texts of valleys and sentences into a valley, a state, a sentence of its own. */
-    private static final class Draft {
-        private static final int TOLD_SAND = 1;
-        private static final int TOLD_ECHO = 4;
-        private static final int TOLD_PRICE = 16;
-        private static final int TOLD_WAGE = 32;
-
-        final Valley land = new Valley();
-        final State state = new State();
-        final Sentence saying = new Sentence();
-        private final Tape text;
-        private int toldOnce;
-
-        Draft(Tape text) {
-            this.text = text;
-        }
-
-        /** How many lines the valley on the tape has; NONE, if it has a fault. */
-        int readValley() {
-            land.clear();
-            state.clear();
-            toldOnce = 0;
-            text.open(VALLEY_BYTES);
-            int lines = 0;
-            while (lines <= VALLEY_BYTES && !text.isAtEnd()) {
-                if (!readLine() || !text.takeSign(';')) {
-                    return NONE;
-                }
-                lines++;
-            }
-            return text.closes() ? lines : NONE;
-        }
-
-        private boolean readLine() {
-            switch (text.word) {
-                case STREET:
-                    return readStreet();
-                case HAND:
-                    return readHand();
-                case QUESTION:
-                    return readQuestion();
-                case WANTS:
-                    return readWants();
-                case GRANTS:
-                    return readGrants();
-                case SAND:
-                    return readOfWay(state.sand, TOLD_SAND, MOST_SAND);
-                case ECHO:
-                    return readOfWay(land.echo, TOLD_ECHO, MOST_ECHO);
-                case PRICE:
-                    return readPrice();
-                case WAGE:
-                    return readWage();
-                default:
-                    return text.fail(CANT_COME);
-            }
-        }
-
-        private boolean seeNewName() {
-            if (text.word != Word.NAME) {
-                return text.fail(CANT_COME);
-            }
-            return !land.tells(text.name) || text.fail(NAME_OFF);
-        }
-
-        private boolean readStreet() {
-            if (land.streets >= STREETS) {
-                return text.fail(TOO_MANY);
-            }
-            text.advance();
-            if (!seeNewName()) {
-                return false;
-            }
-            land.streetNames[land.streets] = text.name;
-            land.streets++;
-            text.advance();
-            return true;
-        }
-
-        private boolean readQuestion() {
-            if (land.questions >= QUESTIONS) {
-                return text.fail(TOO_MANY);
-            }
-            text.advance();
-            if (!seeNewName()) {
-                return false;
-            }
-            land.questionNames[land.questions] = text.name;
-            land.questions++;
-            text.advance();
-            return true;
-        }
-
-        private boolean readHand() {
-            int h = land.hands;
-            if (h >= HANDS) {
-                return text.fail(TOO_MANY);
-            }
-            text.advance();
-            if (!seeNewName()) {
-                return false;
-            }
-            land.handNames[h] = text.name;
-            text.advance();
-            int street = text.takeName(land.streetNames, land.streets);
-            int irons = street == NONE ? NONE : text.takeNumber(0, MOST_IRONS);
-            int coin = irons == NONE ? NONE : text.takeNumber(0, MOST_FIRST_COIN);
-            if (coin == NONE) {
-                return false;
-            }
-            land.home[h] = street;
-            state.irons[h] = irons;
-            state.coin[h] = coin;
-            if (text.word == Word.CHILD) {
-                land.children |= 1 << h;
-                text.advance();
-            }
-            land.hands++;
-            return true;
-        }
-
-        private boolean readWants() {
-            text.advance();
-            int h = text.takeName(land.handNames, land.hands);
-            int q = h == NONE ? NONE : text.seeName(land.questionNames, land.questions);
-            if (q == NONE) {
-                return false;
-            }
-            if (state.wayWanted(h, q) != NO_WAY) {
-                return text.fail(NAME_OFF);
-            }
-            text.advance();
-            int w = text.takeWay();
-            if (w == NONE) {
-                return false;
-            }
-            state.turnHand(h, q, w);
-            return true;
-        }
-
-        private boolean readGrants() {
-            text.advance();
-            int q = text.takeName(land.questionNames, land.questions);
-            int street = q == NONE ? NONE : text.seeName(land.streetNames, land.streets);
-            if (street == NONE) {
-                return false;
-            }
-            int pair = q * STREETS + street;
-            if (land.granted[pair] != 0) {
-                return text.fail(NAME_OFF);
-            }
-            text.advance();
-            int n = text.takeNumber(1, MOST_GRANT);
-            if (n == NONE) {
-                return false;
-            }
-            land.granted[pair] = n;
-            return true;
-        }
-
-        private boolean readOfWay(int[] row, int toldLeft, int most) {
-            text.advance();
-            int w = text.seeWay();
-            if (w == NONE || w >= row.length || !seeOnce(toldLeft << w)) {
-                return false;
-            }
-            text.advance();
-            int n = text.takeNumber(0, most);
-            if (n == NONE) {
-                return false;
-            }
-            row[w] = n;
-            return true;
-        }
-
-        private boolean readPrice() {
-            if (!seeOnce(TOLD_PRICE)) {
-                return false;
-            }
-            text.advance();
-            land.price = text.takeNumber(1, MOST_PRICE);
-            return land.price != NONE;
-        }
-
-        private boolean readWage() {
-            if (!seeOnce(TOLD_WAGE)) {
-                return false;
-            }
-            text.advance();
-            land.wage = text.takeNumber(0, MOST_WAGE);
-            return land.wage != NONE;
-        }
-
-        private boolean seeOnce(int mark) {
-            if ((toldOnce & mark) != 0) {
-                return text.fail(NAME_OFF);
-            }
-            toldOnce |= mark;
-            return true;
-        }
-
-        /** Whether the tape is a sentence on the hands of this valley. */
-        boolean readSentence(Valley known) {
-            saying.clear();
-            text.open(SENTENCE_BYTES);
-            return readCond(known, 1) && text.closes();
-        }
-
-        private boolean readCond(Valley known, int depth) {
-            if (!readAll(known, depth)) {
-                return false;
-            }
-            for (int parts = 0; parts < ONES && text.word == Word.OR; parts++) {
-                text.advance();
-                if (!readAll(known, depth) || !saying.add(Sentence.OR, 0, 0)) {
-                    return false;
-                }
-            }
-            return true;
-        }
-
-        private boolean readAll(Valley known, int depth) {
-            if (!readOne(known, depth)) {
-                return false;
-            }
-            for (int parts = 0; parts < ONES && text.word == Word.AND; parts++) {
-                text.advance();
-                if (!readOne(known, depth) || !saying.add(Sentence.AND, 0, 0)) {
-                    return false;
-                }
-            }
-            return true;
-        }
-
-        private boolean readOne(Valley known, int depth) {
-            if (!startsOne()) {
-                return text.fail(CANT_COME);
-            }
-            if (saying.ones >= ONES || depth > ONES_WITHIN) {
-                return text.fail(TOO_MANY);
-            }
-            saying.ones++;
-            Word first = text.word;
-            text.advance();
-            switch (first) {
-                case NOT:
-                    return readOne(known, depth + 1) && saying.add(Sentence.NOT, 0, 0);
-                case SILENT:
-                    return saying.add(Sentence.SILENT, 0, 0);
-                case CHILD:
-                    return saying.add(Sentence.CHILD, 0, 0);
-                case OF:
-                    return readNamed(Sentence.OF, known.streetNames, known.streets);
-                case FOR:
-                    return readNamed(Sentence.FOR, known.questionNames, known.questions);
-                case AGAINST:
-                    return readNamed(Sentence.AGAINST, known.questionNames, known.questions);
-                case IRONS:
-                    return readCompared(Sentence.IRONS);
-                case COIN:
-                    return readCompared(Sentence.COIN);
-                case NUMBER:
-                    return readCompared(Sentence.NUMBER);
-                default:
-                    return readCond(known, depth + 1) && text.takeSign(')');
-            }
-        }
-
-        private boolean startsOne() {
-            switch (text.word) {
-                case NOT:
-                case SILENT:
-                case CHILD:
-                case OF:
-                case FOR:
-                case AGAINST:
-                case IRONS:
-                case COIN:
-                case NUMBER:
-                    return true;
-                default:
-                    return text.sign == '(';
-            }
-        }
-
-        private boolean readNamed(int kind, long[] names, int told) {
-            int found = text.seeName(names, told);
-            if (found == NONE) {
-                return false;
-            }
-            text.advance();
-            return saying.add(kind, found, 0);
-        }
-
-        private boolean readCompared(int kind) {
-            int sign = text.sign;
-            if (sign != '<' && sign != '=' && sign != '>') {
-                return text.fail(CANT_COME);
-            }
-            text.advance();
-            int number = text.takeNumber(0, MOST_NUMBER);
-            return number != NONE && saying.add(kind, number, sign);
-        }
-    }
-
     /** A book: what each line does, and to whom. */
     private static final class Book {
-        private final Tape text;
         private final int[] what = new int[BOOK_LINES];
         private final int[] who = new int[BOOK_LINES];
         private final int[] which = new int[BOOK_LINES];
         private final int[] amount = new int[BOOK_LINES];
         int lines;
 
-        Book(Tape text) {
-            this.text = text;
-        }
-
-        /** Whether the tape is a book of this valley. */
-        boolean read(Valley land) {
-            lines = 0;
-            text.open(BOOK_BYTES);
-            int seen = 0;
-            while (seen <= BOOK_LINES && !text.isAtEnd()) {
-                if (!readLine(land) || !text.takeSign(';')) {
-                    return false;
-                }
-                seen++;
-            }
-            return text.closes();
-        }
-
-        private boolean readLine(Valley land) {
-            int h = NONE;
-            if (!startsLine()) {
-                h = text.seeName(land.handNames, land.hands);
-                if (h == NONE) {
-                    return false;
-                }
-            }
-            if (lines >= BOOK_LINES) {
-                return text.fail(TOO_MANY);
-            }
-            Word first = text.word;
-            text.advance();
-            return h == NONE ? readPlainLine(land, first) : readHandLine(land, h);
-        }
-
-        private boolean startsLine() {
-            switch (text.word) {
-                case PUT:
-                case LAY:
-                case DRY_DAY:
-                case WET_DAY:
-                case SNOW_DAY:
-                case DAY:
-                    return true;
-                default:
-                    return false;
-            }
-        }
-
-        private boolean readHandLine(Valley land, int h) {
-            Word act = text.word;
-            if (act != Word.BUYS && act != Word.STRIKES && act != Word.WORKS && act != Word.SWAYED) {
-                return text.fail(CANT_COME);
-            }
-            text.advance();
-            switch (act) {
-                case BUYS:
-                    int n = text.takeNumber(1, MOST_IRONS);
-                    return n != NONE && add(ACT_BUY, h, 0, n);
-                case STRIKES:
-                    return add(ACT_STRIKE, h, 0, 0);
-                case WORKS:
-                    return add(ACT_WORK, h, 0, 0);
-                default:
-                    int q = text.takeName(land.questionNames, land.questions);
-                    int w = q == NONE ? NONE : text.takeWay();
-                    return w != NONE && add(ACT_SWAY, h, q, w);
-            }
-        }
-
-        private boolean readPlainLine(Valley land, Word first) {
-            switch (first) {
-                case PUT:
-                    int q = text.takeName(land.questionNames, land.questions);
-                    return q != NONE && add(ACT_PUT, 0, q, 0);
-                case LAY:
-                    int w = text.takeWay();
-                    int sand = w == NONE ? NONE : text.takeNumber(0, MOST_SAND);
-                    return sand != NONE && add(ACT_LAY, 0, w, sand);
-                case DRY_DAY:
-                    return add(ACT_WEATHER, 0, DRY, 0);
-                case WET_DAY:
-                    return add(ACT_WEATHER, 0, WET, 0);
-                case SNOW_DAY:
-                    return add(ACT_WEATHER, 0, SNOW, 0);
-                default:
-                    int n = text.takeNumber(1, MOST_DAYS);
-                    return n != NONE && add(ACT_DAY, 0, 0, n);
-            }
-        }
-
-        private boolean add(int act, int hand, int thing, int n) {
+        boolean add(int act, int hand, int thing, int n) {
             if (lines >= BOOK_LINES) {
                 return false;
             }
@@ -1907,6 +1514,393 @@ public final class ClogVotes {
                 state.passDay(land);
             }
             return 0;
+        }
+    }
+
+    /** The tape, and what its texts tell, read into a valley, a state, a sentence, a book of its own. */
+    private static final class Reader {
+        private static final int TOLD_SAND = 1;
+        private static final int TOLD_ECHO = 4;
+        private static final int TOLD_PRICE = 16;
+        private static final int TOLD_WAGE = 32;
+
+        final Tape tape = new Tape();
+        final Valley land = new Valley();
+        final State state = new State();
+        final Sentence saying = new Sentence();
+        final Book pages = new Book();
+        private int toldOnce;
+
+        /** How many lines the valley on the tape has; NONE, if it has a fault. */
+        int readValley() {
+            land.clear();
+            state.clear();
+            toldOnce = 0;
+            tape.open(VALLEY_BYTES);
+            int lines = 0;
+            while (lines <= VALLEY_BYTES && !tape.isAtEnd()) {
+                if (!readLine() || !tape.takeSign(';')) {
+                    return NONE;
+                }
+                lines++;
+            }
+            return tape.closes() ? lines : NONE;
+        }
+
+        private boolean readLine() {
+            switch (tape.word) {
+                case STREET:
+                    return readStreet();
+                case HAND:
+                    return readHand();
+                case QUESTION:
+                    return readQuestion();
+                case WANTS:
+                    return readWants();
+                case GRANTS:
+                    return readGrants();
+                case SAND:
+                    return readOfWay(state.sand, TOLD_SAND, MOST_SAND);
+                case ECHO:
+                    return readOfWay(land.echo, TOLD_ECHO, MOST_ECHO);
+                case PRICE:
+                    return readPrice();
+                case WAGE:
+                    return readWage();
+                default:
+                    return tape.fail(CANT_COME);
+            }
+        }
+
+        private boolean seeNewName() {
+            if (tape.word != Word.NAME) {
+                return tape.fail(CANT_COME);
+            }
+            return !land.tells(tape.name) || tape.fail(NAME_OFF);
+        }
+
+        private boolean readStreet() {
+            if (land.streets >= STREETS) {
+                return tape.fail(TOO_MANY);
+            }
+            tape.advance();
+            if (!seeNewName()) {
+                return false;
+            }
+            land.streetNames[land.streets] = tape.name;
+            land.streets++;
+            tape.advance();
+            return true;
+        }
+
+        private boolean readQuestion() {
+            if (land.questions >= QUESTIONS) {
+                return tape.fail(TOO_MANY);
+            }
+            tape.advance();
+            if (!seeNewName()) {
+                return false;
+            }
+            land.questionNames[land.questions] = tape.name;
+            land.questions++;
+            tape.advance();
+            return true;
+        }
+
+        private boolean readHand() {
+            int h = land.hands;
+            if (h >= HANDS) {
+                return tape.fail(TOO_MANY);
+            }
+            tape.advance();
+            if (!seeNewName()) {
+                return false;
+            }
+            land.handNames[h] = tape.name;
+            tape.advance();
+            int street = tape.takeName(land.streetNames, land.streets);
+            int irons = street == NONE ? NONE : tape.takeNumber(0, MOST_IRONS);
+            int coin = irons == NONE ? NONE : tape.takeNumber(0, MOST_FIRST_COIN);
+            if (coin == NONE) {
+                return false;
+            }
+            land.home[h] = street;
+            state.irons[h] = irons;
+            state.coin[h] = coin;
+            if (tape.word == Word.CHILD) {
+                land.children |= 1 << h;
+                tape.advance();
+            }
+            land.hands++;
+            return true;
+        }
+
+        private boolean readWants() {
+            tape.advance();
+            int h = tape.takeName(land.handNames, land.hands);
+            int q = h == NONE ? NONE : tape.seeName(land.questionNames, land.questions);
+            if (q == NONE) {
+                return false;
+            }
+            if (state.wayWanted(h, q) != NO_WAY) {
+                return tape.fail(NAME_OFF);
+            }
+            tape.advance();
+            int w = tape.takeWay();
+            if (w == NONE) {
+                return false;
+            }
+            state.turnHand(h, q, w);
+            return true;
+        }
+
+        private boolean readGrants() {
+            tape.advance();
+            int q = tape.takeName(land.questionNames, land.questions);
+            int street = q == NONE ? NONE : tape.seeName(land.streetNames, land.streets);
+            if (street == NONE) {
+                return false;
+            }
+            if (land.grantTo(q, street) != 0) {
+                return tape.fail(NAME_OFF);
+            }
+            tape.advance();
+            int n = tape.takeNumber(1, MOST_GRANT);
+            if (n == NONE) {
+                return false;
+            }
+            land.granted[q * STREETS + street] = n;
+            return true;
+        }
+
+        private boolean readOfWay(int[] row, int toldLeft, int most) {
+            tape.advance();
+            int w = tape.seeWay();
+            if (w == NONE || w >= row.length || !seeOnce(toldLeft << w)) {
+                return false;
+            }
+            tape.advance();
+            int n = tape.takeNumber(0, most);
+            if (n == NONE) {
+                return false;
+            }
+            row[w] = n;
+            return true;
+        }
+
+        private boolean readPrice() {
+            if (!seeOnce(TOLD_PRICE)) {
+                return false;
+            }
+            tape.advance();
+            land.price = tape.takeNumber(1, MOST_PRICE);
+            return land.price != NONE;
+        }
+
+        private boolean readWage() {
+            if (!seeOnce(TOLD_WAGE)) {
+                return false;
+            }
+            tape.advance();
+            land.wage = tape.takeNumber(0, MOST_WAGE);
+            return land.wage != NONE;
+        }
+
+        private boolean seeOnce(int mark) {
+            if ((toldOnce & mark) != 0) {
+                return tape.fail(NAME_OFF);
+            }
+            toldOnce |= mark;
+            return true;
+        }
+
+        /** Whether the tape is a sentence on the hands of this valley. */
+        boolean readSentence(Valley known) {
+            saying.clear();
+            tape.open(SENTENCE_BYTES);
+            return readCond(known, 1) && tape.closes();
+        }
+
+        private boolean readCond(Valley known, int depth) {
+            if (!readAll(known, depth)) {
+                return false;
+            }
+            for (int parts = 0; parts < ONES && tape.word == Word.OR; parts++) {
+                tape.advance();
+                if (!readAll(known, depth) || !saying.add(Sentence.OR, 0, 0)) {
+                    return false;
+                }
+            }
+            return true;
+        }
+
+        private boolean readAll(Valley known, int depth) {
+            if (!readOne(known, depth)) {
+                return false;
+            }
+            for (int parts = 0; parts < ONES && tape.word == Word.AND; parts++) {
+                tape.advance();
+                if (!readOne(known, depth) || !saying.add(Sentence.AND, 0, 0)) {
+                    return false;
+                }
+            }
+            return true;
+        }
+
+        private boolean readOne(Valley known, int depth) {
+            if (!startsOne()) {
+                return tape.fail(CANT_COME);
+            }
+            if (saying.ones >= ONES || depth > ONES_WITHIN) {
+                return tape.fail(TOO_MANY);
+            }
+            saying.ones++;
+            Word first = tape.word;
+            tape.advance();
+            switch (first) {
+                case NOT:
+                    return readOne(known, depth + 1) && saying.add(Sentence.NOT, 0, 0);
+                case SILENT:
+                    return saying.add(Sentence.SILENT, 0, 0);
+                case CHILD:
+                    return saying.add(Sentence.CHILD, 0, 0);
+                case OF:
+                    return readNamed(Sentence.OF, known.streetNames, known.streets);
+                case FOR:
+                    return readNamed(Sentence.FOR, known.questionNames, known.questions);
+                case AGAINST:
+                    return readNamed(Sentence.AGAINST, known.questionNames, known.questions);
+                case IRONS:
+                    return readCompared(Sentence.IRONS);
+                case COIN:
+                    return readCompared(Sentence.COIN);
+                case NUMBER:
+                    return readCompared(Sentence.NUMBER);
+                default:
+                    return readCond(known, depth + 1) && tape.takeSign(')');
+            }
+        }
+
+        private boolean startsOne() {
+            switch (tape.word) {
+                case NOT:
+                case SILENT:
+                case CHILD:
+                case OF:
+                case FOR:
+                case AGAINST:
+                case IRONS:
+                case COIN:
+                case NUMBER:
+                    return true;
+                default:
+                    return tape.sign == '(';
+            }
+        }
+
+        private boolean readNamed(int kind, long[] names, int told) {
+            int found = tape.seeName(names, told);
+            if (found == NONE) {
+                return false;
+            }
+            tape.advance();
+            return saying.add(kind, found, 0);
+        }
+
+        private boolean readCompared(int kind) {
+            int sign = tape.sign;
+            if (sign != '<' && sign != '=' && sign != '>') {
+                return tape.fail(CANT_COME);
+            }
+            tape.advance();
+            int number = tape.takeNumber(0, MOST_NUMBER);
+            return number != NONE && saying.add(kind, number, sign);
+        }
+
+        /** Whether the tape is a book of this valley. */
+        boolean readBook(Valley known) {
+            pages.lines = 0;
+            tape.open(BOOK_BYTES);
+            int seen = 0;
+            while (seen <= BOOK_LINES && !tape.isAtEnd()) {
+                if (!readBookLine(known) || !tape.takeSign(';')) {
+                    return false;
+                }
+                seen++;
+            }
+            return tape.closes();
+        }
+
+        private boolean readBookLine(Valley known) {
+            int h = NONE;
+            if (!startsBookLine()) {
+                h = tape.seeName(known.handNames, known.hands);
+                if (h == NONE) {
+                    return false;
+                }
+            }
+            if (pages.lines >= BOOK_LINES) {
+                return tape.fail(TOO_MANY);
+            }
+            Word first = tape.word;
+            tape.advance();
+            return h == NONE ? readPlainLine(known, first) : readHandLine(known, h);
+        }
+
+        private boolean startsBookLine() {
+            switch (tape.word) {
+                case PUT:
+                case LAY:
+                case DRY_DAY:
+                case WET_DAY:
+                case SNOW_DAY:
+                case DAY:
+                    return true;
+                default:
+                    return false;
+            }
+        }
+
+        private boolean readHandLine(Valley known, int h) {
+            Word act = tape.word;
+            if (act != Word.BUYS && act != Word.STRIKES && act != Word.WORKS && act != Word.SWAYED) {
+                return tape.fail(CANT_COME);
+            }
+            tape.advance();
+            switch (act) {
+                case BUYS:
+                    int n = tape.takeNumber(1, MOST_IRONS);
+                    return n != NONE && pages.add(ACT_BUY, h, 0, n);
+                case STRIKES:
+                    return pages.add(ACT_STRIKE, h, 0, 0);
+                case WORKS:
+                    return pages.add(ACT_WORK, h, 0, 0);
+                default:
+                    int q = tape.takeName(known.questionNames, known.questions);
+                    int w = q == NONE ? NONE : tape.takeWay();
+                    return w != NONE && pages.add(ACT_SWAY, h, q, w);
+            }
+        }
+
+        private boolean readPlainLine(Valley known, Word first) {
+            switch (first) {
+                case PUT:
+                    int q = tape.takeName(known.questionNames, known.questions);
+                    return q != NONE && pages.add(ACT_PUT, 0, q, 0);
+                case LAY:
+                    int w = tape.takeWay();
+                    int sand = w == NONE ? NONE : tape.takeNumber(0, MOST_SAND);
+                    return sand != NONE && pages.add(ACT_LAY, 0, w, sand);
+                case DRY_DAY:
+                    return pages.add(ACT_WEATHER, 0, DRY, 0);
+                case WET_DAY:
+                    return pages.add(ACT_WEATHER, 0, WET, 0);
+                case SNOW_DAY:
+                    return pages.add(ACT_WEATHER, 0, SNOW, 0);
+                default:
+                    int n = tape.takeNumber(1, MOST_DAYS);
+                    return n != NONE && pages.add(ACT_DAY, 0, 0, n);
+            }
         }
     }
 

@@ -15,6 +15,7 @@ public final class ActsTest {
         lastDay();
         undo();
         undoOfEach();
+        undoOfTwo();
         Check.finish("ActsTest");
     }
 
@@ -26,6 +27,9 @@ public final class ActsTest {
         Check.same("hand(0, 2)", x.hand(0, 2), 1);
         Check.same("buy(0, 1)", x.buy(0, 1), 1);
         Check.same("buy(0, 20)", x.buy(0, 20), 1);
+        Check.same("buy(1, 6) for all but 2", x.buy(1, 6), 0);
+        Check.same("buy(1, 1) for more", x.buy(1, 1), 1);
+        x.undo();
         Check.same("buy(2, 2)", x.buy(2, 2), 2);
         Check.same("hand(2, 2)", x.hand(2, 2), 99);
         Check.same("buy(2, 1)", x.buy(2, 1), 0);
@@ -40,6 +44,9 @@ public final class ActsTest {
         ClogVotes dear = Check.valley("street s;hand h s 0 99;price 5;");
         Check.same("buy(0, 20) for 100", dear.buy(0, 20), 1);
         Check.same("buy(0, 19) for 95", dear.buy(0, 19), 0);
+        ClogVotes just = Check.valley("street s;hand h s 0 15;price 5;");
+        Check.same("buy(0, 3) for all coin", just.buy(0, 3), 0);
+        Check.same("hand(0, 2)", just.hand(0, 2), 0);
         ClogVotes cheap = Check.valley("street s;hand h s 0 60;hand i s 1 60;");
         Check.same("buy(0, 20) for 40", cheap.buy(0, 20), 0);
         Check.same("buy(1, 20) beyond 20", cheap.buy(1, 20), 2);
@@ -104,6 +111,18 @@ public final class ActsTest {
         Check.same("hand(1, 1), lost grants nothing", x.hand(1, 1), 9);
         Check.same("put(3)", x.put(3), Check.NONE);
         Check.same("put(-1)", x.put(-1), Check.NONE);
+        ClogVotes close = Check.valley(LAND);
+        close.lay(1, 2);
+        Check.same("put(0), 9 on the left, 8 on the right", close.put(0), 0);
+        Check.same("question(0, 0)", close.question(0, 0), 1);
+        Check.same("question(0, 2)", close.question(0, 2), 1);
+        Check.same("hand(0, 1)", close.hand(0, 1), 10);
+        ClogVotes even = Check.valley(LAND);
+        even.lay(1, 1);
+        Check.same("put(0), 9 on both", even.put(0), 0);
+        Check.same("question(0, 0)", even.question(0, 0), 2);
+        Check.same("question(0, 2)", even.question(0, 2), 0);
+        Check.same("hand(0, 1)", even.hand(0, 1), 9);
         ClogVotes wet = Check.valley(LAND);
         wet.weather(1);
         wet.put(0);
@@ -248,6 +267,36 @@ public final class ActsTest {
         Check.same("book(0)", Check.book(x, "a strikes;wet;", 0), Check.NONE);
         Check.same("undo() of strike(2)", x.undo(), 0);
         Check.same("now(2)", x.now(2), 0);
+    }
+
+    /** Each act behind another one: undo takes the latest back alone. */
+    private static void undoOfTwo() {
+        ClogVotes x = Check.valley(LAND);
+        for (int act = 0; act < 9; act++) {
+            String first = all(x);
+            x.lay(0, 10 + act);
+            String second = all(x);
+            doOne(x, act);
+            Check.no("act " + act + " does something", all(x).equals(second));
+            Check.same("undo() of act " + act, x.undo(), 1);
+            Check.sameText("what is so behind undo() of act " + act, all(x), second);
+            Check.same("undo() of lay()", x.undo(), 0);
+            Check.sameText("what is so behind undo() of lay()", all(x), first);
+        }
+    }
+
+    private static void doOne(ClogVotes x, int act) {
+        switch (act) {
+            case 0: x.buy(0, 2); break;
+            case 1: x.strike(1); break;
+            case 2: x.sway(2, 0, 1); break;
+            case 3: x.put(1); break;
+            case 4: x.weather(2); break;
+            case 5: x.days(1); break;
+            case 6: x.drawn(1, 9); break;
+            case 7: Check.book(x, "wet;wet;", 1); break;
+            default: x.lay(1, 1); break;
+        }
     }
 
     private static void undone(ClogVotes x, String due) {

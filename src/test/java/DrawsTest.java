@@ -146,6 +146,7 @@ public final class DrawsTest {
         ClogVotes v = Check.valley(LAND);
         v.put(0);
         Check.same("odds(0, 11, 2) of what is carried", v.odds(0, 11, 2), 11);
+        Check.same("odds(0, 1, 2) of what is carried", v.odds(0, 1, 2), 1);
         v = Check.valley(LAND);
         v.lay(0, 20);
         v.put(0);

@@ -6,6 +6,7 @@ public final class TapeTest {
         ending();
         plainValley();
         newValley();
+        nothingLeftOver();
         Check.finish("TapeTest");
     }
 
@@ -125,5 +126,32 @@ public final class TapeTest {
         Check.same("said() without a sentence", x.said(Check.NONE), Check.NONE);
         Check.same("valley() of an empty tape", x.valley(), 0);
         Check.same("count(2)", x.count(2), 0);
+    }
+
+    private static void nothingLeftOver() {
+        String names = "street s;hand a s 1 2%;hand b s 3 4;question q;question r;";
+        ClogVotes x = Check.valley(names.replace("%", " child") + "wants a q right;wants b q left;wants b r right;"
+                + "grants q s 4;grants r s 5;sand left 6;sand right 7;echo left 8;echo right 9;price 9;wage 9;");
+        Check.tell(x, names.replace("%", " child") + "wants a q left;wants a r right;grants q s 1;sand left 1;sand right 2;"
+                + "echo left 3;echo right 4;price 5;wage 6;wage 7;");
+        Check.yes("valley() with a fault at its end", x.valley() < 0);
+        Check.same("grants(1, 0) stays", x.grants(1, 0), 5);
+        Check.tell(x, names.replace("%", ""));
+        Check.same("valley()", x.valley(), 5);
+        for (int q = 0; q < 2; q++) {
+            Check.same("grants(" + q + ", 0)", x.grants(q, 0), 0);
+            for (int h = 0; h < 2; h++) {
+                Check.same("wants(" + h + ", " + q + ")", x.wants(h, q), -2);
+                Check.same("hand(" + h + ", 3)", x.hand(h, 3), 0);
+            }
+        }
+        for (int w = 0; w < 2; w++) {
+            Check.same("way(" + w + ", 0)", x.way(w, 0), 0);
+            Check.same("way(" + w + ", 1)", x.way(w, 1), 0);
+        }
+        Check.same("count(3)", x.count(3), 2);
+        Check.same("count(4)", x.count(4), 1);
+        Check.tell(x, "sand left 6;echo right 8;price 3;wage 2;");
+        Check.same("what was told in another valley can be told", x.valley(), 4);
     }
 }

@@ -9,6 +9,7 @@ public final class WouldTest {
         sanded();
         bought();
         boughtFirst();
+        boughtByThree();
         agenda();
         power();
         Check.finish("WouldTest");
@@ -195,6 +196,29 @@ public final class WouldTest {
         Check.same("bought(0): 0 and 0 against 4", y.bought(0), 6);
         Check.same("buys(0)", y.buys(0), 0);
         Check.same("buys(1), a child", y.buys(1), 2);
+    }
+
+    private static void boughtByThree() {
+        ClogVotes x = Check.valley("street s;hand a s 1 3 child;hand b s 1 15 child;hand c s 1 99;hand d s 17 0;question q;"
+                + "wants a q left;wants b q left;wants c q left;wants d q right;price 3;sand left 2;");
+        // 0 and 0 and 0 against 17: a adds 2 by its one, b 10 by its five, c the rest but for its first
+        Check.same("bought(0)", x.bought(0), 39);
+        Check.same("buys(0)", x.buys(0), 1);
+        Check.same("buys(1)", x.buys(1), 5);
+        Check.same("buys(2)", x.buys(2), 7);
+        x.lay(1, 6);
+        // against 11: a and b together, none for c
+        Check.same("bought(0)", x.bought(0), 18);
+        Check.same("buys(0)", x.buys(0), 1);
+        Check.same("buys(1)", x.buys(1), 5);
+        Check.same("buys(2)", x.buys(2), 0);
+        Check.tell(x, "street s;hand a s 1 3;hand b s 4 0;question q;wants a q left;wants b q right;price 1;");
+        x.valley();
+        Check.same("bought(0) of fewer hands", x.bought(0), Check.NONE);
+        x.lay(1, 1);
+        Check.same("bought(0) of fewer hands", x.bought(0), 3);
+        Check.same("buys(0)", x.buys(0), 3);
+        Check.same("buys(2)", x.buys(2), Check.NONE);
     }
 
     private static void agenda() {
