@@ -272,15 +272,16 @@ public final class ActsTest {
     /** Each act behind another one: undo takes the latest back alone. */
     private static void undoOfTwo() {
         ClogVotes x = Check.valley(LAND);
-        for (int act = 0; act < 9; act++) {
+        x.strike(2);
+        for (int act = 0; act < 10; act++) {
             String first = all(x);
             x.lay(0, 10 + act);
             String second = all(x);
             doOne(x, act);
             Check.no("act " + act + " does something", all(x).equals(second));
-            Check.same("undo() of act " + act, x.undo(), 1);
+            Check.same("undo() of act " + act, x.undo(), 2);
             Check.sameText("what is so behind undo() of act " + act, all(x), second);
-            Check.same("undo() of lay()", x.undo(), 0);
+            Check.same("undo() of lay()", x.undo(), 1);
             Check.sameText("what is so behind undo() of lay()", all(x), first);
         }
     }
@@ -295,6 +296,7 @@ public final class ActsTest {
             case 5: x.days(1); break;
             case 6: x.drawn(1, 9); break;
             case 7: Check.book(x, "wet;wet;", 1); break;
+            case 8: x.work(2); break;
             default: x.lay(1, 1); break;
         }
     }
