@@ -128,6 +128,9 @@ public final class FaultsTest {
         fine(LAND + "hand c s 0 0;hand d s 20 99;grants q s 1;grants q t 9;sand left 0;sand right 20;"
             + "echo right 0;echo left 99;price 9;wage 9;", 16);
         fine("price 1;wage 0;", 2);
+        inLand("hand c s 1 |1a;", 1);
+        inLand("hand c s 1 |1000;", 1);
+        inLand("hand c s 1 1 |childx1;", 1);
         inLand("hand c s |21 1;", 2);
         inLand("hand c s 20 |100;", 2);
         inLand("grants q s |0;", 2);
