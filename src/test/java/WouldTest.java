@@ -212,6 +212,8 @@ public final class WouldTest {
         Check.same("buys(0)", x.buys(0), 1);
         Check.same("buys(1)", x.buys(1), 5);
         Check.same("buys(2)", x.buys(2), 0);
+        x = Check.valley("street s;hand a s 9 0;hand b s 9 0;hand c s 9 0;question q;wants a q left;wants b q left;wants c q left;");
+        Check.same("bought(0), already", x.bought(0), 0);
         Check.tell(x, "street s;hand a s 1 3;hand b s 4 0;question q;wants a q left;wants b q right;price 1;");
         x.valley();
         Check.same("bought(0) of fewer hands", x.bought(0), Check.NONE);
