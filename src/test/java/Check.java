@@ -1,4 +1,6 @@
+import java.util.HashSet;
 import java.util.NoSuchElementException;
+import java.util.Set;
 
 /** What all tests use: texts laid on the tape, answers compared, an end with exit code 1 if one was wrong. */
 final class Check {
@@ -8,17 +10,38 @@ final class Check {
 
     static final int NONE = ClogVotes.NONE;
 
+    private static final Set<String> RULES = new HashSet<>();
+    private static String rule = "";
+    private static int seenAhead = 0;
     private static int wrong = 0;
     private static int seen = 0;
 
     private Check() {
     }
 
+    /** What follows tests this sentence of the document alone; a sentence without an answer is wrong. */
+    static void rule(String sentence) {
+        closeRule();
+        rule = sentence;
+        seenAhead = seen;
+        if (!RULES.add(sentence)) {
+            wrong++;
+            System.out.println("told twice: " + sentence);
+        }
+    }
+
+    private static void closeRule() {
+        if (!rule.isEmpty() && seen == seenAhead) {
+            wrong++;
+            System.out.println("nothing was asked of: " + rule);
+        }
+    }
+
     static void same(String what, long got, long due) {
         seen++;
         if (got != due) {
             wrong++;
-            System.out.println(what + " answered " + got + ", due is " + due);
+            System.out.println((rule.isEmpty() ? "" : "[" + rule + "] ") + what + " answered " + got + ", due is " + due);
         }
     }
 
@@ -102,7 +125,9 @@ final class Check {
     }
 
     static void finish(String test) {
-        System.out.println(test + ": " + seen + " answers, " + wrong + " not as due");
+        closeRule();
+        String rules = RULES.isEmpty() ? "" : RULES.size() + " sentences, ";
+        System.out.println(test + ": " + rules + seen + " answers, " + wrong + " not as due");
         if (wrong != 0) {
             System.exit(1);
         }
