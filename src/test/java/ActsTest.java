@@ -234,18 +234,20 @@ public final class ActsTest {
         Check.same("now(2)", x.now(2), 0);
     }
 
-    private static void undoOfEach() {
+    private static ClogVotes withStrike() {
         ClogVotes x = Check.valley(LAND);
         x.strike(2);
-        String first = all(x);
-        x.buy(0, 1);
-        undone(x, first);
-        x.strike(0);
-        undone(x, first);
-        x.work(2);
-        undone(x, first);
-        x.sway(1, 0, 0);
-        undone(x, first);
+        return x;
+    }
+
+    private static void undoOfEach() {
+        String first = all(withStrike());
+        for (int act = 0; act < 10; act++) {
+            ClogVotes x = withStrike();
+            doOne(x, act);
+            undone(x, first);
+        }
+        ClogVotes x = withStrike();
         x.sway(1, 1, 1);
         undone(x, first);
         x.lay(1, 10);
@@ -254,11 +256,7 @@ public final class ActsTest {
         Check.same("question(0, 0)", x.question(0, 0), 1);
         Check.same("undo() of put(0)", x.undo(), 2);
         Check.sameText("what is so behind undo()", all(x), sandy);
-        undone(x, first);
-        x.weather(2);
-        undone(x, first);
-        x.days(33);
-        undone(x, first);
+        x = withStrike();
         x.drawn(20, 5);
         undone(x, first);
         Check.book(x, "a strikes;b strikes;day 6;wet;put q;put q;", 1);
@@ -271,9 +269,8 @@ public final class ActsTest {
 
     /** Each act behind another one: undo takes the latest back alone. */
     private static void undoOfTwo() {
-        ClogVotes x = Check.valley(LAND);
-        x.strike(2);
         for (int act = 0; act < 10; act++) {
+            ClogVotes x = withStrike();
             String first = all(x);
             x.lay(0, 10 + act);
             String second = all(x);

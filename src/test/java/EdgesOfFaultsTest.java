@@ -116,6 +116,29 @@ public final class EdgesOfFaultsTest {
     }
 
     private static void theEnd() {
+        Check.rule("FAULT 1: one that can't come: ; ahead of the end of a LINE");
+        for (String line : new String[] {"street |;", "hand |;", "hand c |;", "hand c s |;", "hand c s 1 |;", "question |;",
+            "wants |;", "wants a |;", "wants a q |;", "grants |;", "grants q |;", "grants q s |;", "sand |;", "sand left |;",
+            "echo |;", "echo right |;", "price |;", "wage |;", "|;"}) {
+            valley(SOME + line, 1);
+        }
+        for (String line : new String[] {"a |;", "a buys |;", "a swayed |;", "a swayed q |;", "put |;", "lay |;", "lay left |;",
+            "day |;", "|;"}) {
+            book("wet;" + line, 1);
+        }
+
+        Check.rule("FAULT 1: one that can't come: the end or ) ahead of the end of a ONE");
+        for (String one : new String[] {"not |", "of |", "for |", "against |", "irons |", "coin |", "number |", "irons < |",
+            "coin = |", "number > |", "child or |", "child and |", "|"}) {
+            sentence(one, 1);
+            sentence("(" + one + ")", 1);
+        }
+
+        Check.rule("FAULT 1: one that can't come: another WORD behind a HAND of a BOOK");
+        for (String word : new String[] {"put", "lay", "dry", "day", "wants", "left", "not", "child"}) {
+            book("a |" + word + " q left;", 1);
+        }
+
         Check.rule("FAULT 1: the end: how many bytes there are");
         valley("price 2|", 1);
         valley("price 2  |", 1);
@@ -186,6 +209,22 @@ public final class EdgesOfFaultsTest {
         valley("price " + BLANKS.substring(0, 893) + "0|01;", 1);
         book(BLANKS.substring(0, 398) + "dr|y;", 1);
         sentence(BLANKS.substring(0, 196) + "chil|d", 1);
+
+        Check.rule("FAULT 1: TOKENS that begin just at the most bytes are not read: no FAULT 2, 3, 4");
+        valley("price " + BLANKS.substring(0, 894) + "|0;", 1);
+        valley("price 1;" + BLANKS.substring(0, 892) + "|price 1;", 1);
+        valley("street a;street b;street c;street d;street e;" + BLANKS.substring(0, 855) + "|street f;", 1);
+        book("day " + BLANKS.substring(0, 396) + "|61;", 1);
+        book("put " + BLANKS.substring(0, 396) + "|x;", 1);
+        book(Check.times("a works;", 40) + BLANKS.substring(0, 80) + "|wet;", 1);
+        sentence("of " + BLANKS.substring(0, 197) + "|x", 1);
+        sentence(Check.times("child and ", 20) + "|child", 1);
+
+        Check.rule("FAULT 1: no TOKEN, as long as the tape lets it be");
+        valley(BLANKS.substring(0, 899) + "|" + Check.times("a", 41), 1);
+        valley("|" + Check.times("a", 940), 1);
+        book("|" + Check.times("7", 940), 1);
+        sentence("child |" + Check.times("a", 934), 1);
 
         Check.rule("FAULT 2 of a NUMBER that begins ahead of the most bytes and is read whole");
         valley("price " + BLANKS.substring(0, 893) + "|10;", 2);

@@ -163,6 +163,16 @@ public final class EdgesOfHeardTest {
         // 9: bce, 10: bcde, 8: bcd, bde: b in four, c in three, d in three, e in three of four
         Check.same("heard() of 9, 1", Check.heard(x, 9, 1), 4);
         Check.same("ask(): c", x.ask(), 2);
+        x = Check.valley("street s;hand a s 9 0;hand b s 1 0;hand c s 8 0;hand d s 2 0;hand e s 4 0;");
+        // 9: a, bc, 10: ab, cd, 8: c: a in two, b in two, c in three of five
+        Check.same("heard() of 9, 1", Check.heard(x, 9, 1), 5);
+        Check.same("ask(): a", x.ask(), 0);
+        // 1: b, 2: d, 3: bd, 4: e, 5: be: a in none, b in three of five
+        Check.same("heard() of 3, 2", Check.heard(x, 3, 2), 5);
+        Check.same("ask(): b", x.ask(), 1);
+        // 20: abcd, 21: ace, 22: abce, 23: acde, 24: all: b in three of five
+        Check.same("heard() of 22, 2", Check.heard(x, 22, 2), 5);
+        Check.same("ask(): b", x.ask(), 1);
 
         Check.rule("ASK: of like ones the first");
         x = Check.valley(TEN);

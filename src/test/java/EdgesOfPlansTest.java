@@ -152,6 +152,24 @@ public final class EdgesOfPlansTest {
         bought("wet, 1 against 2: two ones or a two", x, 2, 0, 1, 1, 0);
         x.strike(2);
         bought("wet, without c", x, 3, 0, 3, 0, 0);
+
+        Check.rule("BOUGHT: HAND by HAND the fewest IRONS, of what is left of the least COIN");
+        String text = "street s;hand a s 1 1 child;hand b s 1 3 child;hand c s 1 99;hand d s % 0;question q;wants a q left;wants b q left;"
+                + "wants c q left;wants d q right;price 1;";
+        bought("5 against 15", Check.valley(text.replace("%", "15")), 7, 1, 3, 3, 0);
+        bought("5 against 11", Check.valley(text.replace("%", "11")), 4, 0, 3, 1, 0);
+        bought("5 against 12", Check.valley(text.replace("%", "12")), 4, 1, 3, 0, 0);
+        bought("5 against 10", Check.valley(text.replace("%", "10")), 3, 0, 3, 0, 0);
+        bought("5 against 8", Check.valley(text.replace("%", "8")), 2, 0, 2, 0, 0);
+
+        Check.rule("BOUGHT: by HANDS of this VALLEY, not of one that had more");
+        x = Check.valley(text.replace("%", "15"));
+        bought("of four", x, 7, 1, 3, 3, 0);
+        Check.tell(x, "street s;hand a s 1 9;hand b s 5 9;question q;wants a q left;wants b q right;price 1;");
+        x.valley();
+        bought("of two", x, 5, 5, 0, Check.NONE);
+        x.lay(0, 5);
+        Check.same("bought(0) of two: 5 against 5", x.bought(0), Check.NONE);
     }
 
     private static void buys() {

@@ -143,6 +143,14 @@ public final class EdgesOfTapeTest {
         x.end(12);
         Check.no("end(13)", x.end(13));
         Check.same("valley()", x.valley(), -13);
+        Check.tell(x, "childish or 5");
+        x.end(5);
+        Check.same("sentence() of a WORD cut off", x.sentence(), 1);
+        Check.tell(x, "price 7777;");
+        x.end(7);
+        Check.tell(x, ";");
+        Check.same("valley() of a NUMBER cut off", x.valley(), 1);
+        Check.same("count(3)", x.count(3), 7);
 
         Check.rule("3: false, if it has not so many");
         Edges.refused("end(4)", y -> y.end(4) ? 1 : 0, 0);

@@ -10,10 +10,10 @@ public final class NoThrowTest {
         1 << 20, Integer.MAX_VALUE};
 
     public static void main(String[] args) {
-        for (int run = 0; run < 300; run++) {
+        for (int run = 0; run < 3000; run++) {
             Dice dice = new Dice(run * 7919L + 1);
             ClogVotes x = new ClogVotes();
-            for (int call = 0; call < 500; call++) {
+            for (int call = 0; call < 50; call++) {
                 anyCall(x, dice);
             }
         }

@@ -8,6 +8,10 @@ public final class OracleTest {
     private static boolean[] child;
     private static boolean[] silent;
     private static int[] home;
+    private static int[][] wanted;
+    private static int[][] granted;
+    private static boolean[] isOpen;
+    private static int price;
     private static int hands;
     private static int streets;
     private static int questions;
@@ -16,23 +20,22 @@ public final class OracleTest {
     private static boolean wet;
 
     public static void main(String[] args) {
-        for (int run = 0; run < 120; run++) {
+        for (int run = 0; run < 360; run++) {
             Dice dice = new Dice(run);
             ClogVotes x = Check.valley(dice.valley(1 + dice.below(5), dice.below(7), dice.below(6)));
-            for (int turn = 0; turn < 3; turn++) {
-                act(x, dice);
-                look(x);
-                for (int q = 0; q < questions; q++) {
-                    compareNoise(x, q);
-                    compareWon(x, q);
-                    compareStreets(x, q);
-                    compareSanded(x, q);
-                    compareBought(x, q);
-                }
-                compareAgenda(x);
-                comparePower(x);
-                compareHeard(x, dice);
+            act(x, dice);
+            look(x);
+            compareHands(x);
+            for (int q = 0; q < questions; q++) {
+                compareNoise(x, q);
+                compareWon(x, q);
+                compareStreets(x, q);
+                compareSanded(x, q);
+                compareBought(x, q);
             }
+            compareAgenda(x);
+            comparePower(x);
+            compareHeard(x, dice);
         }
         Check.finish("OracleTest");
     }
@@ -66,11 +69,28 @@ public final class OracleTest {
             child[h] = x.hand(h, 3) == 1;
             silent[h] = x.hand(h, 4) == 1;
         }
+        lookAtQuestions(x);
         for (int w = 0; w < 2; w++) {
             sand[w] = x.way(w, 0);
             echo[w] = x.way(w, 1);
         }
         wet = x.now(1) == 1;
+        price = x.count(3);
+    }
+
+    private static void lookAtQuestions(ClogVotes x) {
+        wanted = new int[questions][hands];
+        granted = new int[questions][streets];
+        isOpen = new boolean[questions];
+        for (int q = 0; q < questions; q++) {
+            isOpen[q] = x.question(q, 0) == 0;
+            for (int s = 0; s < streets; s++) {
+                granted[q][s] = x.grants(q, s);
+            }
+            for (int h = 0; h < hands; h++) {
+                wanted[q][h] = x.wants(h, q);
+            }
+        }
     }
 
     private static int loud(int h, int has, int w, int lies) {
@@ -97,20 +117,19 @@ public final class OracleTest {
         return noise(goes, irons, 0, sand[0]) > noise(goes, irons, 1, sand[1]);
     }
 
-    private static int[] goes(ClogVotes x, int q) {
-        int[] goes = new int[hands];
-        for (int h = 0; h < hands; h++) {
-            goes[h] = x.wants(h, q);
-        }
-        return goes;
+    private static int[] goes(int q) {
+        return wanted[q].clone();
     }
 
-    private static void compareNoise(ClogVotes x, int q) {
-        int[] goes = goes(x, q);
+    private static void compareHands(ClogVotes x) {
         for (int h = 0; h < hands; h++) {
             Check.same("hand(h, 5)", x.hand(h, 5), loud(h, irons[h], 0, sand[0]));
             Check.same("hand(h, 6)", x.hand(h, 6), loud(h, irons[h], 1, sand[1]));
         }
+    }
+
+    private static void compareNoise(ClogVotes x, int q) {
+        int[] goes = goes(q);
         Check.same("noise(q, 0)", x.noise(q, 0), noise(goes, irons, 0, sand[0]));
         Check.same("noise(q, 1)", x.noise(q, 1), noise(goes, irons, 1, sand[1]));
         Check.same("would(q)", x.would(q), carried(goes) ? 1 : 0);
@@ -120,7 +139,7 @@ public final class OracleTest {
         int most = 99;
         int which = 0;
         for (int set = 0; set < 1 << hands; set++) {
-            int[] goes = goes(x, q);
+            int[] goes = goes(q);
             boolean fits = true;
             for (int h = 0; h < hands; h++) {
                 if ((set >> h) % 2 == 1) {
@@ -142,7 +161,7 @@ public final class OracleTest {
         int most = 99;
         int which = 0;
         for (int set = 0; set < 1 << streets; set++) {
-            int[] goes = goes(x, q);
+            int[] goes = goes(q);
             for (int h = 0; h < hands; h++) {
                 if ((set >> home[h]) % 2 == 1) {
                     goes[h] = 0;
@@ -159,7 +178,7 @@ public final class OracleTest {
     }
 
     private static void compareSanded(ClogVotes x, int q) {
-        int[] goes = goes(x, q);
+        int[] goes = goes(q);
         int least = Check.NONE;
         for (int lies = 20; lies >= 0; lies--) {
             if (noise(goes, irons, 0, sand[0]) > noise(goes, irons, 1, lies)) {
@@ -173,41 +192,41 @@ public final class OracleTest {
     private static int bestSum;
 
     private static void compareBought(ClogVotes x, int q) {
-        int[] goes = goes(x, q);
+        int[] goes = goes(q);
         long ways = 1;
         for (int h = 0; h < hands; h++) {
-            ways *= mostBuys(x, goes, h) + 1;
+            ways *= mostBuys(goes, h) + 1;
         }
         if (ways > 60_000) {
             return;
         }
         bestBuys = null;
         bestSum = 0;
-        tryBuys(x, goes, new int[hands], 0, 0);
+        tryBuys(goes, new int[hands], 0, 0);
         if (bestBuys == null) {
             Check.same("bought(q)", x.bought(q), Check.NONE);
             return;
         }
-        Check.same("bought(q)", x.bought(q), bestSum * x.count(3));
+        Check.same("bought(q)", x.bought(q), bestSum * price);
         for (int h = 0; h < hands; h++) {
             Check.same("buys(h)", x.buys(h), bestBuys[h]);
         }
         Check.same("buys() of nobody", x.buys(hands), Check.NONE);
     }
 
-    private static int mostBuys(ClogVotes x, int[] goes, int h) {
+    private static int mostBuys(int[] goes, int h) {
         if (goes[h] != 0 || silent[h]) {
             return 0;
         }
         int most = 0;
-        while ((most + 1) * x.count(3) <= coin[h] && irons[h] + most + 1 <= 20) {
+        while ((most + 1) * price <= coin[h] && irons[h] + most + 1 <= 20) {
             most++;
         }
         return most;
     }
 
     /** Goes through all ways to buy in their order; the first of the least sum stays. */
-    private static void tryBuys(ClogVotes x, int[] goes, int[] buys, int h, int sum) {
+    private static void tryBuys(int[] goes, int[] buys, int h, int sum) {
         if (h == hands) {
             int[] has = irons.clone();
             for (int i = 0; i < hands; i++) {
@@ -219,10 +238,10 @@ public final class OracleTest {
             }
             return;
         }
-        int most = mostBuys(x, goes, h);
+        int most = mostBuys(goes, h);
         for (int n = 0; n <= most; n++) {
             buys[h] = n;
-            tryBuys(x, goes, buys, h + 1, sum + n);
+            tryBuys(goes, buys, h + 1, sum + n);
         }
         buys[h] = 0;
     }
@@ -234,7 +253,7 @@ public final class OracleTest {
         boolean was = wet;
         wet = false;
         bestCarried = -1;
-        tryOrders(x, new int[0], irons.clone(), 0);
+        tryOrders(new int[0], irons.clone(), 0);
         wet = was;
         Check.same("agenda()", x.agenda(), bestCarried);
         for (int k = 0; k < bestOrder.length; k++) {
@@ -243,10 +262,10 @@ public final class OracleTest {
         Check.same("agendaAt() behind the last", x.agendaAt(bestOrder.length), Check.NONE);
     }
 
-    private static void tryOrders(ClogVotes x, int[] order, int[] has, int carried) {
+    private static void tryOrders(int[] order, int[] has, int carried) {
         boolean last = true;
         for (int q = 0; q < questions; q++) {
-            boolean open = x.question(q, 0) == 0;
+            boolean open = isOpen[q];
             for (int done : order) {
                 open &= done != q;
             }
@@ -254,13 +273,13 @@ public final class OracleTest {
                 last = false;
                 int[] longer = java.util.Arrays.copyOf(order, order.length + 1);
                 longer[order.length] = q;
-                int[] goes = goes(x, q);
+                int[] goes = goes(q);
                 boolean left = noise(goes, has, 0, sand[0]) > noise(goes, has, 1, sand[1]);
                 int[] then = has.clone();
                 for (int h = 0; left && h < hands; h++) {
-                    then[h] = Math.min(20, then[h] + x.grants(q, home[h]));
+                    then[h] = Math.min(20, then[h] + granted[q][home[h]]);
                 }
-                tryOrders(x, longer, then, carried + (left ? 1 : 0));
+                tryOrders(longer, then, carried + (left ? 1 : 0));
             }
         }
         if (last && carried > bestCarried) {

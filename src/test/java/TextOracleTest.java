@@ -10,7 +10,7 @@ public final class TextOracleTest {
     private static int ones;
 
     public static void main(String[] args) {
-        for (int run = 0; run < 400; run++) {
+        for (int run = 0; run < 600; run++) {
             Dice dice = new Dice(31 * run + 5);
             int streets = 1 + dice.below(3);
             int hands = 1 + dice.below(5);
@@ -18,7 +18,7 @@ public final class TextOracleTest {
             String text = dice.valley(streets, hands, questions);
             ClogVotes x = Check.valley(text);
             ClogVotes twin = Check.valley(text);
-            for (int i = 0; i < 3; i++) {
+            for (int i = 0; i < 2; i++) {
                 compareBook(x, twin, dice, hands, questions);
                 compareSentence(x, dice, streets, questions);
             }
