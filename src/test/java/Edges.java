@@ -40,7 +40,7 @@ final class Edges {
     }
 
     /** The call gives this answer, and all is behind it as it was ahead of it, what can be undone too. */
-    static void refused(String what, Made made, Ask call, int due) {
+    static void unchanged(String what, Made made, Ask call, int due) {
         ClogVotes x = made.make();
         String ahead = isSo(x) + wasTold(x);
         Check.same(what, call.of(x), due);
@@ -48,8 +48,8 @@ final class Edges {
         sameUndone(what, x, made.make());
     }
 
-    static void refused(String what, Ask call, int due) {
-        refused(what, Edges::lively, call, due);
+    static void unchanged(String what, Ask call, int due) {
+        unchanged(what, Edges::lively, call, due);
     }
 
     static void sameUndone(String what, ClogVotes x, ClogVotes due) {

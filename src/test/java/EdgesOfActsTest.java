@@ -24,16 +24,16 @@ public final class EdgesOfActsTest {
     private static void buyNone() {
         Check.rule("12: n 1 to 20");
         for (int n : new int[] {LEAST, -20, -1, 0, 21, 22, MOST}) {
-            Edges.refused("buy(2, " + n + ")", x -> x.buy(2, n), Check.NONE);
+            Edges.unchanged("buy(2, " + n + ")", x -> x.buy(2, n), Check.NONE);
         }
         Check.same("buy(0, 1)", Check.valley("street s;hand h s 0 99;").buy(0, 1), 0);
         Check.same("buy(0, 20)", Check.valley("street s;hand h s 0 99;").buy(0, 20), 0);
 
         Check.rule("12: NONE: no such HAND");
         for (int h : Edges.beyond(3)) {
-            Edges.refused("buy(" + h + ", 1)", x -> x.buy(h, 1), Check.NONE);
+            Edges.unchanged("buy(" + h + ", 1)", x -> x.buy(h, 1), Check.NONE);
         }
-        Edges.refused("buy(0, 1) of nobody", ClogVotes::new, x -> x.buy(0, 1), Check.NONE);
+        Edges.unchanged("buy(0, 1) of nobody", ClogVotes::new, x -> x.buy(0, 1), Check.NONE);
     }
 
     private static ClogVotes buyer(int irons, int coin, int price) {
@@ -54,10 +54,10 @@ public final class EdgesOfActsTest {
 
     private static void buyWhy() {
         Check.rule("BUY: 1 its COIN is below n times the price");
-        Edges.refused("buy(1, 3) of 14 at 5", () -> buyer(0, 14, 5), x -> x.buy(1, 3), 1);
-        Edges.refused("buy(1, 20) of 99 at 5", () -> buyer(0, 99, 5), x -> x.buy(1, 20), 1);
-        Edges.refused("buy(1, 1) of 0 at 1", () -> buyer(0, 0, 1), x -> x.buy(1, 1), 1);
-        Edges.refused("buy(1, 1) of 8 at 9", () -> buyer(0, 8, 9), x -> x.buy(1, 1), 1);
+        Edges.unchanged("buy(1, 3) of 14 at 5", () -> buyer(0, 14, 5), x -> x.buy(1, 3), 1);
+        Edges.unchanged("buy(1, 20) of 99 at 5", () -> buyer(0, 99, 5), x -> x.buy(1, 20), 1);
+        Edges.unchanged("buy(1, 1) of 0 at 1", () -> buyer(0, 0, 1), x -> x.buy(1, 1), 1);
+        Edges.unchanged("buy(1, 1) of 8 at 9", () -> buyer(0, 8, 9), x -> x.buy(1, 1), 1);
 
         Check.rule("BUY: its COIN is just n times the price");
         bought(0, 15, 5, 3);
@@ -66,9 +66,9 @@ public final class EdgesOfActsTest {
         bought(0, 40, 2, 20);
 
         Check.rule("BUY: 2 it would have more than 20");
-        Edges.refused("buy(1, 1) with 20", () -> buyer(20, 99, 1), x -> x.buy(1, 1), 2);
-        Edges.refused("buy(1, 3) with 18", () -> buyer(18, 99, 1), x -> x.buy(1, 3), 2);
-        Edges.refused("buy(1, 20) with 1", () -> buyer(1, 99, 1), x -> x.buy(1, 20), 2);
+        Edges.unchanged("buy(1, 1) with 20", () -> buyer(20, 99, 1), x -> x.buy(1, 1), 2);
+        Edges.unchanged("buy(1, 3) with 18", () -> buyer(18, 99, 1), x -> x.buy(1, 3), 2);
+        Edges.unchanged("buy(1, 20) with 1", () -> buyer(1, 99, 1), x -> x.buy(1, 20), 2);
 
         Check.rule("BUY: it would have just 20");
         bought(18, 99, 1, 2);
@@ -76,8 +76,8 @@ public final class EdgesOfActsTest {
         bought(0, 99, 1, 20);
 
         Check.rule("BUY: why not, the least");
-        Edges.refused("buy(1, 2) with 19, 1 COIN at 1", () -> buyer(19, 1, 1), x -> x.buy(1, 2), 1);
-        Edges.refused("buy(1, 20) with 20, 99 COIN at 9", () -> buyer(20, 99, 9), x -> x.buy(1, 20), 1);
+        Edges.unchanged("buy(1, 2) with 19, 1 COIN at 1", () -> buyer(19, 1, 1), x -> x.buy(1, 2), 1);
+        Edges.unchanged("buy(1, 20) with 20, 99 COIN at 9", () -> buyer(20, 99, 9), x -> x.buy(1, 20), 1);
 
         Check.rule("BUY: a HAND on STRIKE can, in snow too");
         ClogVotes x = buyer(0, 4, 2);
@@ -88,7 +88,7 @@ public final class EdgesOfActsTest {
 
     private static void strike() {
         Check.rule("13: STRIKE: 1 it is on STRIKE");
-        Edges.refused("strike(1)", x -> x.strike(1), 1);
+        Edges.unchanged("strike(1)", x -> x.strike(1), 1);
 
         Check.rule("13: 0, and it is");
         ClogVotes x = Edges.lively();
@@ -98,15 +98,15 @@ public final class EdgesOfActsTest {
 
         Check.rule("13: NONE: no such one");
         for (int h : Edges.beyond(3)) {
-            Edges.refused("strike(" + h + ")", y -> y.strike(h), Check.NONE);
+            Edges.unchanged("strike(" + h + ")", y -> y.strike(h), Check.NONE);
         }
-        Edges.refused("strike(0) of nobody", ClogVotes::new, y -> y.strike(0), Check.NONE);
+        Edges.unchanged("strike(0) of nobody", ClogVotes::new, y -> y.strike(0), Check.NONE);
     }
 
     private static void work() {
         Check.rule("14: WORK: 1 it is not on STRIKE");
-        Edges.refused("work(0)", x -> x.work(0), 1);
-        Edges.refused("work(2)", x -> x.work(2), 1);
+        Edges.unchanged("work(0)", x -> x.work(0), 1);
+        Edges.unchanged("work(2)", x -> x.work(2), 1);
 
         Check.rule("14: 0, and it is on STRIKE no more");
         ClogVotes x = Edges.lively();
@@ -117,28 +117,28 @@ public final class EdgesOfActsTest {
 
         Check.rule("14: NONE: no such one");
         for (int h : Edges.beyond(3)) {
-            Edges.refused("work(" + h + ")", y -> y.work(h), Check.NONE);
+            Edges.unchanged("work(" + h + ")", y -> y.work(h), Check.NONE);
         }
-        Edges.refused("work(0) of nobody", ClogVotes::new, y -> y.work(0), Check.NONE);
+        Edges.unchanged("work(0) of nobody", ClogVotes::new, y -> y.work(0), Check.NONE);
     }
 
     private static void swayNone() {
         Check.rule("15: NONE: no such HAND");
         for (int h : Edges.beyond(3)) {
-            Edges.refused("sway(" + h + ", 0, 0)", x -> x.sway(h, 0, 0), Check.NONE);
+            Edges.unchanged("sway(" + h + ", 0, 0)", x -> x.sway(h, 0, 0), Check.NONE);
         }
-        Edges.refused("sway(0, 0, 0) of nobody", () -> Check.valley("question q;"), x -> x.sway(0, 0, 0), Check.NONE);
+        Edges.unchanged("sway(0, 0, 0) of nobody", () -> Check.valley("question q;"), x -> x.sway(0, 0, 0), Check.NONE);
 
         Check.rule("15: NONE: no such QUESTION");
         for (int q : Edges.beyond(3)) {
-            Edges.refused("sway(0, " + q + ", 0)", x -> x.sway(0, q, 0), Check.NONE);
+            Edges.unchanged("sway(0, " + q + ", 0)", x -> x.sway(0, q, 0), Check.NONE);
         }
-        Edges.refused("sway(0, 0, 0) for nothing", () -> Check.valley("street s;hand h s 1 1;"), x -> x.sway(0, 0, 0), Check.NONE);
+        Edges.unchanged("sway(0, 0, 0) for nothing", () -> Check.valley("street s;hand h s 1 1;"), x -> x.sway(0, 0, 0), Check.NONE);
 
         Check.rule("15: NONE: no such WAY");
         for (int w : Edges.beyond(2)) {
-            Edges.refused("sway(0, 2, " + w + ")", x -> x.sway(0, 2, w), Check.NONE);
-            Edges.refused("sway(0, 0, " + w + ")", x -> x.sway(0, 0, w), Check.NONE);
+            Edges.unchanged("sway(0, 2, " + w + ")", x -> x.sway(0, 2, w), Check.NONE);
+            Edges.unchanged("sway(0, 0, " + w + ")", x -> x.sway(0, 0, w), Check.NONE);
         }
     }
 
@@ -153,8 +153,8 @@ public final class EdgesOfActsTest {
 
     private static void swayWhy() {
         Check.rule("SWAY: 1 it was PUT, CARRIED or LOST");
-        Edges.refused("sway(2, 0, 0) of one LOST", EdgesOfActsTest::lost, x -> x.sway(2, 0, 0), 1);
-        Edges.refused("sway(2, 0, 1) of one LOST", EdgesOfActsTest::lost, x -> x.sway(2, 0, 1), 1);
+        Edges.unchanged("sway(2, 0, 0) of one LOST", EdgesOfActsTest::lost, x -> x.sway(2, 0, 0), 1);
+        Edges.unchanged("sway(2, 0, 1) of one LOST", EdgesOfActsTest::lost, x -> x.sway(2, 0, 1), 1);
         ClogVotes y = Edges.lively();
         y.put(1);
         Check.same("question(1, 0)", y.question(1, 0), 1);
@@ -162,12 +162,12 @@ public final class EdgesOfActsTest {
         Check.same("sway(2, 2, 1) of one that was not PUT", y.sway(2, 2, 1), 0);
 
         Check.rule("SWAY: 2 it wants it by that WAY");
-        Edges.refused("sway(0, 0, 0)", x -> x.sway(0, 0, 0), 2);
-        Edges.refused("sway(1, 0, 1)", x -> x.sway(1, 0, 1), 2);
+        Edges.unchanged("sway(0, 0, 0)", x -> x.sway(0, 0, 0), 2);
+        Edges.unchanged("sway(1, 0, 1)", x -> x.sway(1, 0, 1), 2);
 
         Check.rule("SWAY: why not, the least");
-        Edges.refused("sway(0, 0, 0) of one LOST", EdgesOfActsTest::lost, x -> x.sway(0, 0, 0), 1);
-        Edges.refused("sway(1, 0, 1) of one LOST", EdgesOfActsTest::lost, x -> x.sway(1, 0, 1), 1);
+        Edges.unchanged("sway(0, 0, 0) of one LOST", EdgesOfActsTest::lost, x -> x.sway(0, 0, 0), 1);
+        Edges.unchanged("sway(1, 0, 1) of one LOST", EdgesOfActsTest::lost, x -> x.sway(1, 0, 1), 1);
 
         Check.rule("SWAY: it wants it so, who wanted it by none or by the other WAY");
         for (int w = 0; w < 2; w++) {
@@ -186,9 +186,9 @@ public final class EdgesOfActsTest {
     private static void putNone() {
         Check.rule("16: NONE: no such one");
         for (int q : Edges.beyond(3)) {
-            Edges.refused("put(" + q + ")", x -> x.put(q), Check.NONE);
+            Edges.unchanged("put(" + q + ")", x -> x.put(q), Check.NONE);
         }
-        Edges.refused("put(0) of none", ClogVotes::new, x -> x.put(0), Check.NONE);
+        Edges.unchanged("put(0) of none", ClogVotes::new, x -> x.put(0), Check.NONE);
         ClogVotes snow = Edges.lively();
         snow.weather(2);
         Check.same("put(3) in snow", snow.put(3), Check.NONE);
@@ -214,13 +214,13 @@ public final class EdgesOfActsTest {
 
     private static void putWhy() {
         Check.rule("PUT: 1 it was PUT");
-        Edges.refused("put(0) on the next DAY", EdgesOfActsTest::nextDay, x -> x.put(0), 1);
+        Edges.unchanged("put(0) on the next DAY", EdgesOfActsTest::nextDay, x -> x.put(0), 1);
 
         Check.rule("PUT: 2 there is snow");
-        Edges.refused("put(1) in snow", EdgesOfActsTest::snowed, x -> x.put(1), 2);
+        Edges.unchanged("put(1) in snow", EdgesOfActsTest::snowed, x -> x.put(1), 2);
 
         Check.rule("PUT: 3 one was PUT on this DAY");
-        Edges.refused("put(1)", EdgesOfActsTest::lost, x -> x.put(1), 3);
+        Edges.unchanged("put(1)", EdgesOfActsTest::lost, x -> x.put(1), 3);
         ClogVotes y = Edges.lively();
         y.put(1);
         Check.same("put(2) behind one CARRIED", y.put(2), 3);
@@ -228,9 +228,9 @@ public final class EdgesOfActsTest {
         Check.same("put(2) on the next DAY", y.put(2), 0);
 
         Check.rule("PUT: why not, the least");
-        Edges.refused("put(0): 1, not 3", EdgesOfActsTest::lost, x -> x.put(0), 1);
-        Edges.refused("put(0): 1, not 2 or 3", EdgesOfActsTest::snowedBehind, x -> x.put(0), 1);
-        Edges.refused("put(1): 2, not 3", EdgesOfActsTest::snowedBehind, x -> x.put(1), 2);
+        Edges.unchanged("put(0): 1, not 3", EdgesOfActsTest::lost, x -> x.put(0), 1);
+        Edges.unchanged("put(0): 1, not 2 or 3", EdgesOfActsTest::snowedBehind, x -> x.put(0), 1);
+        Edges.unchanged("put(1): 2, not 3", EdgesOfActsTest::snowedBehind, x -> x.put(1), 2);
 
         Check.rule("PUT: it can be in the dry and the wet");
         y = Edges.lively();
@@ -286,20 +286,20 @@ public final class EdgesOfActsTest {
     private static void lay() {
         Check.rule("17: n 0 to 20");
         for (int n : new int[] {LEAST, -1, 21, 22, MOST}) {
-            Edges.refused("lay(0, " + n + ")", x -> x.lay(0, n), Check.NONE);
-            Edges.refused("lay(1, " + n + ")", x -> x.lay(1, n), Check.NONE);
+            Edges.unchanged("lay(0, " + n + ")", x -> x.lay(0, n), Check.NONE);
+            Edges.unchanged("lay(1, " + n + ")", x -> x.lay(1, n), Check.NONE);
         }
 
         Check.rule("17: NONE: no such WAY");
         for (int w : Edges.beyond(2)) {
-            Edges.refused("lay(" + w + ", 0)", x -> x.lay(w, 0), Check.NONE);
-            Edges.refused("lay(" + w + ", 20)", x -> x.lay(w, 20), Check.NONE);
+            Edges.unchanged("lay(" + w + ", 0)", x -> x.lay(w, 0), Check.NONE);
+            Edges.unchanged("lay(" + w + ", 20)", x -> x.lay(w, 20), Check.NONE);
         }
 
         Check.rule("LAY: 1 it has just so much");
-        Edges.refused("lay(0, 3)", x -> x.lay(0, 3), 1);
-        Edges.refused("lay(1, 0)", x -> x.lay(1, 0), 1);
-        Edges.refused("lay(1, 0) of a new object", ClogVotes::new, x -> x.lay(1, 0), 1);
+        Edges.unchanged("lay(0, 3)", x -> x.lay(0, 3), 1);
+        Edges.unchanged("lay(1, 0)", x -> x.lay(1, 0), 1);
+        Edges.unchanged("lay(1, 0) of a new object", ClogVotes::new, x -> x.lay(1, 0), 1);
         ClogVotes full = Check.valley("sand right 20;");
         Check.same("lay(1, 20)", full.lay(1, 20), 1);
 
@@ -317,12 +317,12 @@ public final class EdgesOfActsTest {
     private static void weather() {
         Check.rule("18: NONE: no such one (0 to 2)");
         for (int k : Edges.beyond(3)) {
-            Edges.refused("weather(" + k + ")", x -> x.weather(k), Check.NONE);
+            Edges.unchanged("weather(" + k + ")", x -> x.weather(k), Check.NONE);
         }
 
         Check.rule("WEATHER: 1 it is so");
-        Edges.refused("weather(0)", x -> x.weather(0), 1);
-        Edges.refused("weather(2)", EdgesOfActsTest::snowed, x -> x.weather(2), 1);
+        Edges.unchanged("weather(0)", x -> x.weather(0), 1);
+        Edges.unchanged("weather(2)", EdgesOfActsTest::snowed, x -> x.weather(2), 1);
         ClogVotes wet = new ClogVotes();
         wet.weather(1);
         Check.same("weather(1)", wet.weather(1), 1);
@@ -338,7 +338,7 @@ public final class EdgesOfActsTest {
     private static void daysNone() {
         Check.rule("19: NONE: not as told (1 to 60)");
         for (int n : new int[] {LEAST, -60, -1, 0, 61, 62, 400, MOST}) {
-            Edges.refused("days(" + n + ")", x -> x.days(n), Check.NONE);
+            Edges.unchanged("days(" + n + ")", x -> x.days(n), Check.NONE);
         }
 
         Check.rule("19: how many did: 1 and 60");
@@ -418,9 +418,9 @@ public final class EdgesOfActsTest {
         Check.same("hand(0, 2) behind 400 DAYS", coin.hand(0, 2), 400);
 
         Check.rule("A DAY (400: no DAY goes by any more)");
-        Edges.refused("days(1)", () -> lastDays(400), x -> x.days(1), 0);
-        Edges.refused("days(60)", () -> lastDays(400), x -> x.days(60), 0);
-        Edges.refused("days(61)", () -> lastDays(400), x -> x.days(61), Check.NONE);
+        Edges.unchanged("days(1)", () -> lastDays(400), x -> x.days(1), 0);
+        Edges.unchanged("days(60)", () -> lastDays(400), x -> x.days(60), 0);
+        Edges.unchanged("days(61)", () -> lastDays(400), x -> x.days(61), Check.NONE);
         ClogVotes wet = lastDays(400);
         wet.weather(1);
         wet.days(1);

@@ -46,8 +46,8 @@ public final class EdgesOfBookTest {
     private static void lives() {
         Check.rule("40: -1000: another lives (the tape stays)");
         for (int lives : new int[] {Integer.MIN_VALUE, -1000, -1, 2, 3, Integer.MAX_VALUE}) {
-            Edges.refused("book(" + lives + ")", x -> x.book(lives), -1000);
-            Edges.refused("book(" + lives + ") of an empty tape", ClogVotes::new, x -> x.book(lives), -1000);
+            Edges.unchanged("book(" + lives + ")", x -> x.book(lives), -1000);
+            Edges.unchanged("book(" + lives + ") of an empty tape", ClogVotes::new, x -> x.book(lives), -1000);
         }
         ClogVotes x = land();
         Check.tell(x, "day 2;");
@@ -301,7 +301,7 @@ public final class EdgesOfBookTest {
 
         Check.rule("41: NONE: another what");
         for (int what : Edges.beyond(4)) {
-            Edges.refused("told(" + what + ")", y -> y.told(what), Check.NONE);
+            Edges.unchanged("told(" + what + ")", y -> y.told(what), Check.NONE);
         }
 
         Check.rule("41: 1 how many LINES are ahead of the one that is WRONG (all, if none is)");

@@ -67,12 +67,12 @@ public final class EdgesOfDrawsTest {
     private static void none() {
         Check.rule("38: NONE: not as told (n 1 to 60)");
         for (int n : new int[] {LEAST, -60, -1, 0, 61, 62, 400, MOST}) {
-            Edges.refused("drawn(" + n + ", 1)", x -> x.drawn(n, 1), Check.NONE);
+            Edges.unchanged("drawn(" + n + ", 1)", x -> x.drawn(n, 1), Check.NONE);
         }
 
         Check.rule("38: NONE: no HANDS");
-        Edges.refused("drawn(1, 1) of a new object", ClogVotes::new, x -> x.drawn(1, 1), Check.NONE);
-        Edges.refused("drawn(60, 1) without HANDS", () -> Check.valley("street s;question q;"), x -> x.drawn(60, 1), Check.NONE);
+        Edges.unchanged("drawn(1, 1) of a new object", ClogVotes::new, x -> x.drawn(1, 1), Check.NONE);
+        Edges.unchanged("drawn(60, 1) without HANDS", () -> Check.valley("street s;question q;"), x -> x.drawn(60, 1), Check.NONE);
 
         Check.rule("38: one HAND is enough, without QUESTIONS");
         Check.same("drawn(1, 1)", Check.valley("street s;hand h s 1 1;").drawn(1, 1), 1);
@@ -235,20 +235,20 @@ public final class EdgesOfDrawsTest {
             Check.same("drawn(60, " + from + ")", x.drawn(60, any), 0);
             Check.sameText("what is so", Edges.isSo(x), Edges.isSo(on(400)));
         }
-        Edges.refused("drawn(1, 7)", () -> on(400), z -> z.drawn(1, 7), 0);
-        Edges.refused("drawn(61, 7)", () -> on(400), z -> z.drawn(61, 7), Check.NONE);
+        Edges.unchanged("drawn(1, 7)", () -> on(400), z -> z.drawn(1, 7), 0);
+        Edges.unchanged("drawn(61, 7)", () -> on(400), z -> z.drawn(61, 7), Check.NONE);
     }
 
     private static void oddsNone() {
         Check.rule("39: NONE: no such QUESTION");
         for (int q : Edges.beyond(3)) {
-            Edges.refused("odds(" + q + ", 1, 1)", x -> x.odds(q, 1, 1), Check.NONE);
+            Edges.unchanged("odds(" + q + ", 1, 1)", x -> x.odds(q, 1, 1), Check.NONE);
         }
         Check.same("odds(0, 1, 1) of none", new ClogVotes().odds(0, 1, 1), Check.NONE);
 
         Check.rule("39: NONE: no such n (1 to 30)");
         for (int n : new int[] {LEAST, -30, -1, 0, 31, 32, 60, MOST}) {
-            Edges.refused("odds(0, " + n + ", 1)", x -> x.odds(0, n, 1), Check.NONE);
+            Edges.unchanged("odds(0, " + n + ", 1)", x -> x.odds(0, n, 1), Check.NONE);
         }
 
         Check.rule("39: 1 and 30 seeds");
@@ -321,7 +321,7 @@ public final class EdgesOfDrawsTest {
 
     private static void oddsStay() {
         Check.rule("39: nothing that is so changes");
-        Edges.refused("odds(0, 30, 5) of one CARRIED", EdgesOfDrawsTest::carried, x -> x.odds(1, 30, 5), 30);
+        Edges.unchanged("odds(0, 30, 5) of one CARRIED", EdgesOfDrawsTest::carried, x -> x.odds(1, 30, 5), 30);
         ClogVotes x = Edges.lively();
         String ahead = Edges.isSo(x) + Edges.wasTold(x);
         x.odds(2, 30, 5);

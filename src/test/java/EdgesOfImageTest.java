@@ -17,7 +17,7 @@ public final class EdgesOfImageTest {
     private static void noSuch() {
         Check.rule("44: false: no such one");
         for (int k : Edges.beyond(2)) {
-            Edges.refused("image(" + k + ")", x -> asNumber(x.image(k)), 0);
+            Edges.unchanged("image(" + k + ")", x -> asNumber(x.image(k)), 0);
         }
         ClogVotes x = new ClogVotes();
         x.image(2);
@@ -27,15 +27,15 @@ public final class EdgesOfImageTest {
 
         Check.rule("45: false: no such one");
         for (int k : Edges.beyond(2)) {
-            Edges.refused("restore(" + k + ")", y -> asNumber(y.restore(k)), 0);
+            Edges.unchanged("restore(" + k + ")", y -> asNumber(y.restore(k)), 0);
         }
     }
 
     private static void nothingKept() {
         Check.rule("45: false: nothing is kept there");
-        Edges.refused("restore(0)", x -> asNumber(x.restore(0)), 0);
-        Edges.refused("restore(0) of a new object", ClogVotes::new, x -> asNumber(x.restore(0)), 0);
-        Edges.refused("restore(1) of a new object", ClogVotes::new, x -> asNumber(x.restore(1)), 0);
+        Edges.unchanged("restore(0)", x -> asNumber(x.restore(0)), 0);
+        Edges.unchanged("restore(0) of a new object", ClogVotes::new, x -> asNumber(x.restore(0)), 0);
+        Edges.unchanged("restore(1) of a new object", ClogVotes::new, x -> asNumber(x.restore(1)), 0);
         ClogVotes x = new ClogVotes();
         x.image(0);
         Check.no("restore(1) behind image(0)", x.restore(1));
@@ -46,7 +46,7 @@ public final class EdgesOfImageTest {
         Check.rule("44: true, in both places; what is so stays");
         for (int k = 0; k < 2; k++) {
             int place = k;
-            Edges.refused("image(" + k + ")", x -> asNumber(x.image(place)), 1);
+            Edges.unchanged("image(" + k + ")", x -> asNumber(x.image(place)), 1);
         }
 
         Check.rule("44: an empty VALLEY is kept");

@@ -52,12 +52,12 @@ public final class EdgesOfPlansTest {
 
         Check.rule("28: NONE: no such one");
         for (int q : Edges.beyond(3)) {
-            Edges.refused("bought(" + q + ")", x -> x.bought(q), Check.NONE);
+            Edges.unchanged("bought(" + q + ")", x -> x.bought(q), Check.NONE);
         }
         Check.same("bought(0) of none", new ClogVotes().bought(0), Check.NONE);
 
         Check.rule("28: of what can't be, nothing is told, nothing changes");
-        Edges.refused("bought(2)", EdgesOfPlansTest::sandy, x -> x.bought(2), Check.NONE);
+        Edges.unchanged("bought(2)", EdgesOfPlansTest::sandy, x -> x.bought(2), Check.NONE);
     }
 
     private static ClogVotes sandy() {
@@ -198,7 +198,7 @@ public final class EdgesOfPlansTest {
 
         Check.rule("29: NONE: no such one");
         for (int h : Edges.beyond(3)) {
-            Edges.refused("buys(" + h + ")", y -> y.buys(h), Check.NONE);
+            Edges.unchanged("buys(" + h + ")", y -> y.buys(h), Check.NONE);
         }
 
         Check.rule("29: NONE: no such one (of the HANDS there were then)");
@@ -341,7 +341,7 @@ public final class EdgesOfPlansTest {
 
         Check.rule("31: NONE: none such");
         for (int k : Edges.beyond(3)) {
-            Edges.refused("agendaAt(" + k + ")", y -> y.agendaAt(k), Check.NONE);
+            Edges.unchanged("agendaAt(" + k + ")", y -> y.agendaAt(k), Check.NONE);
         }
 
         Check.rule("31: by the latest agenda(): fewer QUESTIONS than ahead");
@@ -364,7 +364,7 @@ public final class EdgesOfPlansTest {
     private static void power() {
         Check.rule("32: NONE: no such one");
         for (int h : Edges.beyond(3)) {
-            Edges.refused("power(" + h + ")", x -> x.power(h), Check.NONE);
+            Edges.unchanged("power(" + h + ")", x -> x.power(h), Check.NONE);
         }
         Check.same("power(0) of nobody", new ClogVotes().power(0), Check.NONE);
 

@@ -87,7 +87,7 @@ public final class EdgesOfSceneTest {
     }
 
     private static void missing(String what, Edges.Made made, Edges.Ask call) {
-        Edges.refused(what, made, x -> {
+        Edges.unchanged(what, made, x -> {
             int thrown = 0;
             try {
                 call.of(x);
@@ -137,9 +137,9 @@ public final class EdgesOfSceneTest {
 
         Check.rule("7: NONE: no such ones");
         for (int h : Edges.beyond(3)) {
-            Edges.refused("wants(" + h + ", 0)", y -> y.wants(h, 0), Check.NONE);
-            Edges.refused("wants(0, " + h + ")", y -> y.wants(0, h), Check.NONE);
-            Edges.refused("wants(" + h + ", " + h + ")", y -> y.wants(h, h), Check.NONE);
+            Edges.unchanged("wants(" + h + ", 0)", y -> y.wants(h, 0), Check.NONE);
+            Edges.unchanged("wants(0, " + h + ")", y -> y.wants(0, h), Check.NONE);
+            Edges.unchanged("wants(" + h + ", " + h + ")", y -> y.wants(h, h), Check.NONE);
         }
         Check.same("wants(10, 0)", x.wants(10, 0), Check.NONE);
         Check.same("wants(0, 5)", x.wants(0, 5), Check.NONE);
@@ -231,14 +231,14 @@ public final class EdgesOfSceneTest {
 
         Check.rule("9: NONE: no such QUESTION");
         for (int q : Edges.beyond(3)) {
-            Edges.refused("grants(" + q + ", 0)", y -> y.grants(q, 0), Check.NONE);
+            Edges.unchanged("grants(" + q + ", 0)", y -> y.grants(q, 0), Check.NONE);
         }
         Check.same("grants(5, 0)", x.grants(5, 0), Check.NONE);
 
         Check.rule("9: NONE: no such STREET");
         for (int s : Edges.beyond(2)) {
-            Edges.refused("grants(0, " + s + ")", y -> y.grants(0, s), Check.NONE);
-            Edges.refused("grants(2, " + s + ")", y -> y.grants(2, s), Check.NONE);
+            Edges.unchanged("grants(0, " + s + ")", y -> y.grants(0, s), Check.NONE);
+            Edges.unchanged("grants(2, " + s + ")", y -> y.grants(2, s), Check.NONE);
         }
         Check.same("grants(0, 5)", x.grants(0, 5), Check.NONE);
         Check.same("grants(0, 0) of none", new ClogVotes().grants(0, 0), Check.NONE);
@@ -256,21 +256,21 @@ public final class EdgesOfSceneTest {
 
         Check.rule("10: NONE: no such WAY");
         for (int w : Edges.beyond(2)) {
-            Edges.refused("way(" + w + ", 0)", y -> y.way(w, 0), Check.NONE);
-            Edges.refused("way(" + w + ", 1)", y -> y.way(w, 1), Check.NONE);
+            Edges.unchanged("way(" + w + ", 0)", y -> y.way(w, 0), Check.NONE);
+            Edges.unchanged("way(" + w + ", 1)", y -> y.way(w, 1), Check.NONE);
         }
 
         Check.rule("10: NONE: nothing such of a WAY");
         for (int what : Edges.beyond(2)) {
-            Edges.refused("way(0, " + what + ")", y -> y.way(0, what), Check.NONE);
-            Edges.refused("way(1, " + what + ")", y -> y.way(1, what), Check.NONE);
+            Edges.unchanged("way(0, " + what + ")", y -> y.way(0, what), Check.NONE);
+            Edges.unchanged("way(1, " + what + ")", y -> y.way(1, what), Check.NONE);
         }
     }
 
     private static void now() {
         Check.rule("11: NONE for another what");
         for (int what : Edges.beyond(8)) {
-            Edges.refused("now(" + what + ")", x -> x.now(what), Check.NONE);
+            Edges.unchanged("now(" + what + ")", x -> x.now(what), Check.NONE);
         }
 
         Check.rule("11: 5 CARRIED, 6 LOST: not those that were not PUT");

@@ -221,7 +221,7 @@ public final class EdgesOfSentenceTest {
 
         Check.rule("43: NONE: none such");
         for (int k : new int[] {Integer.MIN_VALUE, -3, -2, 2, 3, 10, Integer.MAX_VALUE}) {
-            Edges.refused("said(" + k + ")", y -> y.said(k), Check.NONE);
+            Edges.unchanged("said(" + k + ")", y -> y.said(k), Check.NONE);
         }
 
         Check.rule("43: how many (k NONE): 0, of none and of nobody");

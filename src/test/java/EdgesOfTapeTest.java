@@ -9,6 +9,7 @@ public final class EdgesOfTapeTest {
         feedFull();
         end();
         count();
+        manyCalls();
         Check.finish("EdgesOfTapeTest");
     }
 
@@ -153,19 +154,19 @@ public final class EdgesOfTapeTest {
         Check.same("count(3)", x.count(3), 7);
 
         Check.rule("3: false, if it has not so many");
-        Edges.refused("end(4)", y -> y.end(4) ? 1 : 0, 0);
-        Edges.refused("end(20)", y -> y.end(20) ? 1 : 0, 0);
-        Edges.refused("end of the greatest", y -> y.end(MOST) ? 1 : 0, 0);
-        Edges.refused("end(1) of an empty tape", ClogVotes::new, y -> y.end(1) ? 1 : 0, 0);
+        Edges.unchanged("end(4)", y -> y.end(4) ? 1 : 0, 0);
+        Edges.unchanged("end(20)", y -> y.end(20) ? 1 : 0, 0);
+        Edges.unchanged("end of the greatest", y -> y.end(MOST) ? 1 : 0, 0);
+        Edges.unchanged("end(1) of an empty tape", ClogVotes::new, y -> y.end(1) ? 1 : 0, 0);
         x = new ClogVotes();
         fill(x, 940);
         Check.no("end(941) of a full tape", x.end(941));
         Check.yes("end(940) of a full tape", x.end(940));
 
         Check.rule("3: false, if n is below 0");
-        Edges.refused("end(-1)", y -> y.end(-1) ? 1 : 0, 0);
-        Edges.refused("end of the least", y -> y.end(LEAST) ? 1 : 0, 0);
-        Edges.refused("end(-1) of an empty tape", ClogVotes::new, y -> y.end(-1) ? 1 : 0, 0);
+        Edges.unchanged("end(-1)", y -> y.end(-1) ? 1 : 0, 0);
+        Edges.unchanged("end of the least", y -> y.end(LEAST) ? 1 : 0, 0);
+        Edges.unchanged("end(-1) of an empty tape", ClogVotes::new, y -> y.end(-1) ? 1 : 0, 0);
     }
 
     private static void count() {
@@ -194,7 +195,18 @@ public final class EdgesOfTapeTest {
 
         Check.rule("46: NONE for another what");
         for (int what : Edges.beyond(6)) {
-            Edges.refused("count(" + what + ")", y -> y.count(what), Check.NONE);
+            Edges.unchanged("count(" + what + ")", y -> y.count(what), Check.NONE);
         }
+    }
+
+    private static void manyCalls() {
+        Check.rule("An object is used for at most 512 calls: the 512th answers as all ahead of it");
+        ClogVotes x = new ClogVotes();
+        for (int call = 1; call <= 509; call++) {
+            Check.same("lay(0, n), call " + call, x.lay(0, call % 20 + 1), 0);
+        }
+        Check.same("undo(), call 510", x.undo(), 7);
+        Check.same("way(0, 0), call 511", x.way(0, 0), 508 % 20 + 1);
+        Check.same("undo(), call 512", x.undo(), 6);
     }
 }

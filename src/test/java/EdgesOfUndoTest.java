@@ -17,8 +17,8 @@ public final class EdgesOfUndoTest {
 
     private static void none() {
         Check.rule("20: NONE: none is");
-        Edges.refused("undo() of a new object", ClogVotes::new, ClogVotes::undo, Check.NONE);
-        Edges.refused("undo() of a new VALLEY", EdgesOfUndoTest::land, ClogVotes::undo, Check.NONE);
+        Edges.unchanged("undo() of a new object", ClogVotes::new, ClogVotes::undo, Check.NONE);
+        Edges.unchanged("undo() of a new VALLEY", EdgesOfUndoTest::land, ClogVotes::undo, Check.NONE);
         ClogVotes x = Edges.lively();
         Check.same("undo() of the second", x.undo(), 1);
         Check.same("undo() of the first", x.undo(), 0);
@@ -91,26 +91,26 @@ public final class EdgesOfUndoTest {
 
     private static void notDone() {
         Check.rule("20: what was not done, with a why or NONE, is not kept");
-        Edges.refused("buy(0, 20)", x -> x.buy(0, 20), 1);
-        Edges.refused("buy(2, 2)", x -> x.buy(2, 2), 2);
-        Edges.refused("buy(0, 0)", x -> x.buy(0, 0), Check.NONE);
-        Edges.refused("strike(1)", x -> x.strike(1), 1);
-        Edges.refused("work(0)", x -> x.work(0), 1);
-        Edges.refused("sway(0, 0, 0)", x -> x.sway(0, 0, 0), 2);
-        Edges.refused("put(9)", x -> x.put(9), Check.NONE);
-        Edges.refused("lay(0, 3)", x -> x.lay(0, 3), 1);
-        Edges.refused("weather(0)", x -> x.weather(0), 1);
-        Edges.refused("days(0)", x -> x.days(0), Check.NONE);
-        Edges.refused("drawn(0, 1)", x -> x.drawn(0, 1), Check.NONE);
+        Edges.unchanged("buy(0, 20)", x -> x.buy(0, 20), 1);
+        Edges.unchanged("buy(2, 2)", x -> x.buy(2, 2), 2);
+        Edges.unchanged("buy(0, 0)", x -> x.buy(0, 0), Check.NONE);
+        Edges.unchanged("strike(1)", x -> x.strike(1), 1);
+        Edges.unchanged("work(0)", x -> x.work(0), 1);
+        Edges.unchanged("sway(0, 0, 0)", x -> x.sway(0, 0, 0), 2);
+        Edges.unchanged("put(9)", x -> x.put(9), Check.NONE);
+        Edges.unchanged("lay(0, 3)", x -> x.lay(0, 3), 1);
+        Edges.unchanged("weather(0)", x -> x.weather(0), 1);
+        Edges.unchanged("days(0)", x -> x.days(0), Check.NONE);
+        Edges.unchanged("drawn(0, 1)", x -> x.drawn(0, 1), Check.NONE);
 
         Check.rule("20: days() of 0 is not kept");
-        Edges.refused("days(5) on DAY 400", EdgesOfUndoTest::late, x -> x.days(5), 0);
+        Edges.unchanged("days(5) on DAY 400", EdgesOfUndoTest::late, x -> x.days(5), 0);
 
         Check.rule("20: drawn() of 0 is not kept");
-        Edges.refused("drawn(5, 1) on DAY 400", EdgesOfUndoTest::late, x -> x.drawn(5, 1), 0);
+        Edges.unchanged("drawn(5, 1) on DAY 400", EdgesOfUndoTest::late, x -> x.drawn(5, 1), 0);
 
         Check.rule("20: what asks what would be is not kept");
-        Edges.refused("odds(0, 0, 7)", EdgesOfUndoTest::late, x -> x.odds(0, 0, 7), Check.NONE);
+        Edges.unchanged("odds(0, 0, 7)", EdgesOfUndoTest::late, x -> x.odds(0, 0, 7), Check.NONE);
         ClogVotes x = Edges.lively();
         x.odds(0, 30, 7);
         x.agenda();

@@ -29,13 +29,13 @@ public final class EdgesOfWouldTest {
     private static void noise() {
         Check.rule("21: NONE: no such QUESTION");
         for (int q : Edges.beyond(3)) {
-            Edges.refused("noise(" + q + ", 0)", x -> x.noise(q, 0), Check.NONE);
+            Edges.unchanged("noise(" + q + ", 0)", x -> x.noise(q, 0), Check.NONE);
         }
         Check.same("noise(0, 0) of none", new ClogVotes().noise(0, 0), Check.NONE);
 
         Check.rule("21: NONE: no such WAY");
         for (int w : Edges.beyond(2)) {
-            Edges.refused("noise(0, " + w + ")", x -> x.noise(0, w), Check.NONE);
+            Edges.unchanged("noise(0, " + w + ")", x -> x.noise(0, w), Check.NONE);
         }
 
         Check.rule("NOISE: each HAND goes by the WAY by which it wants it; who wants it by none is not heard");
@@ -115,7 +115,7 @@ public final class EdgesOfWouldTest {
 
         Check.rule("22: NONE: no such one");
         for (int q : Edges.beyond(3)) {
-            Edges.refused("would(" + q + ")", y -> y.would(q), Check.NONE);
+            Edges.unchanged("would(" + q + ")", y -> y.would(q), Check.NONE);
         }
         Check.same("would(0) of none", new ClogVotes().would(0), Check.NONE);
     }
@@ -136,7 +136,7 @@ public final class EdgesOfWouldTest {
 
         Check.rule("23: NONE: no such one");
         for (int q : Edges.beyond(3)) {
-            Edges.refused("win(" + q + ")", y -> y.win(q), Check.NONE);
+            Edges.unchanged("win(" + q + ")", y -> y.win(q), Check.NONE);
         }
         Check.same("win(0) of none", new ClogVotes().win(0), Check.NONE);
 
@@ -220,7 +220,7 @@ public final class EdgesOfWouldTest {
 
         Check.rule("25: NONE: no such one");
         for (int q : Edges.beyond(3)) {
-            Edges.refused("winStreets(" + q + ")", y -> y.winStreets(q), Check.NONE);
+            Edges.unchanged("winStreets(" + q + ")", y -> y.winStreets(q), Check.NONE);
         }
         Check.same("winStreets(0) of none", new ClogVotes().winStreets(0), Check.NONE);
 
@@ -285,7 +285,7 @@ public final class EdgesOfWouldTest {
     private static void sanded() {
         Check.rule("27: NONE: no such one");
         for (int q : Edges.beyond(3)) {
-            Edges.refused("sanded(" + q + ")", x -> x.sanded(q), Check.NONE);
+            Edges.unchanged("sanded(" + q + ")", x -> x.sanded(q), Check.NONE);
         }
         Check.same("sanded(0) of none", new ClogVotes().sanded(0), Check.NONE);
 
@@ -300,9 +300,9 @@ public final class EdgesOfWouldTest {
         Check.same("sanded(0) of 21 and its echo against 40", Check.valley(child.replace("%", "20") + "echo left 1;").sanded(0), 20);
 
         Check.rule("SANDED changes nothing");
-        Edges.refused("sanded(0) of what would be CARRIED", x -> x.sanded(0), 0);
-        Edges.refused("sanded(0) by none", () -> against(0, 20, "sand right 7;"), x -> x.sanded(0), Check.NONE);
-        Edges.refused("sanded(0) of 20", () -> against(1, 20, "sand right 7;"), x -> x.sanded(0), 20);
+        Edges.unchanged("sanded(0) of what would be CARRIED", x -> x.sanded(0), 0);
+        Edges.unchanged("sanded(0) by none", () -> against(0, 20, "sand right 7;"), x -> x.sanded(0), Check.NONE);
+        Edges.unchanged("sanded(0) of 20", () -> against(1, 20, "sand right 7;"), x -> x.sanded(0), 20);
     }
 
     private static void sandedJust() {
